@@ -86,7 +86,6 @@ public final class ShareLife {
     private final ArrayList<Since> options;
     private final ArrayList<Since> names;
     private final int[] rates;
-    private final long[] holding;
     private final Fraction strikeNow;
     private final Fraction numberNow;
     private final Fraction factor;
@@ -96,20 +95,19 @@ public final class ShareLife {
 
     public ShareLife() {
         shownLower = 1;
-        accounts = new Accounts();
-        issues = new ArrayList<Move>();
-        trades = new ArrayList<Move>();
-        events = new ArrayList<Event>();
-        picks = new ArrayList<Pick>();
+        run = new Run();
+        accounts = run.accounts;
+        issues = run.issues;
+        trades = run.trades;
+        events = run.events;
+        picks = run.picks;
         options = new ArrayList<Since>();
         names = new ArrayList<Since>();
         rates = new int[PAPERS];
-        holding = new long[ROWS];
         strikeNow = new Fraction();
         numberNow = new Fraction();
         factor = new Fraction();
         reader = new Reader();
-        run = new Run(accounts, issues, trades, events, picks);
         riddle = new Riddle();
     }
 
@@ -389,8 +387,8 @@ public final class ShareLife {
         return deal.day <= happened.record ? -1 : 0;
     }
 
-    private long givenTo(Text text, int shares, int paper) {
-        work(text, NONE, shares);
+    private static long givenTo(Text text, int shares, int paper) {
+        workFor(text, NONE, shares);
         long sum = 0;
         for (int i = 0; i < text.size; i++) {
             if (paper == NONE) {
@@ -402,13 +400,14 @@ public final class ShareLife {
         return sum;
     }
 
-    private void work(Text text, int choice, int shares) {
-        Arrays.fill(holding, 0);
-        holding[OUTSIDE] = shares;
+    /** Lets a text work for a top account with so many shares, all chosen so. */
+    private static void workFor(Text text, int choice, int shares) {
+        Arrays.fill(text.holding, 0);
+        text.holding[OUTSIDE] = shares;
         if (within(choice, 0, MOST_CHOICES - 1)) {
-            holding[choice] = shares;
+            text.holding[choice] = shares;
         }
-        text.work(holding);
+        text.work();
     }
 
     // ---- options
@@ -558,7 +557,7 @@ public final class ShareLife {
 
     private long valueOf(Event happened, int choice, int shares) {
         Text text = happened.text;
-        work(text, choice, shares);
+        workFor(text, choice, shares);
         long sum = 0;
         for (int i = 0; i < text.size; i++) {
             sum += text.pennies[i];
@@ -567,7 +566,7 @@ public final class ShareLife {
             }
         }
         for (int row = 0; row < ROWS; row++) {
-            sum -= text.taken(row, holding[row]) * rates[happened.paper];
+            sum -= text.taken(row) * rates[happened.paper];
         }
         return sum;
     }
@@ -951,6 +950,8 @@ public final class ShareLife {
         final int[] most = new int[MOST_CHOICES];
         /** NONE: cut by rata alone. */
         final int[] small = new int[MOST_CHOICES];
+        /** By row, the shares of the top account that the clauses work for; of the row OUTSIDE its TOTAL. */
+        final long[] holding = new long[ROWS];
         final boolean[] live = new boolean[MOST_CLAUSES];
         final long[] shares = new long[MOST_CLAUSES];
         final long[] pennies = new long[MOST_CLAUSES];
@@ -968,23 +969,13 @@ public final class ShareLife {
             Arrays.fill(small, NONE);
         }
 
-        void add(int clause, int first, int second, int third) {
-            if (size < MOST_CLAUSES) {
-                kind[size] = clause;
-                m[size] = first;
-                q[size] = second;
-                n[size] = third;
-                size++;
-            }
-        }
-
-        void work(long[] holding) {
+        void work() {
             int rule = DOWN;
             int price = 0;
             for (int i = 0; i < size; i++) {
                 shares[i] = 0;
                 pennies[i] = 0;
-                live[i] = isLive(i, holding);
+                live[i] = isLive(i);
                 if (!live[i]) {
                     continue;
                 }
@@ -1004,7 +995,7 @@ public final class ShareLife {
             }
         }
 
-        private boolean isLive(int i, long[] holding) {
+        private boolean isLive(int i) {
             if (row[i] != OUTSIDE && holding[row[i]] <= 0) {
                 return false;
             }
@@ -1036,14 +1027,14 @@ public final class ShareLife {
         }
 
         /** All takes of a row together, at most what is there. */
-        long taken(int of, long atMost) {
+        long taken(int of) {
             long sum = 0;
             for (int i = 0; i < size; i++) {
                 if (kind[i] == TAKE && row[i] == of && live[i]) {
                     sum += shares[i];
                 }
             }
-            return Math.min(sum, atMost);
+            return Math.min(sum, holding[of]);
         }
 
         /** Whether it changes options: no choices and no whens. */
@@ -1290,14 +1281,27 @@ public final class ShareLife {
             }
             told++;
             advance();
-            if (what == CHOICE) {
-                choice();
-            } else if (what == DEFAULT) {
-                fallback();
-            } else if (what == MOST) {
-                most();
-            } else {
-                place(what);
+            switch (what) {
+                case WORTH:
+                    moveWorth();
+                    break;
+                case FRACTION:
+                    fraction();
+                    break;
+                case WHEN:
+                    when();
+                    break;
+                case CHOICE:
+                    choice();
+                    break;
+                case DEFAULT:
+                    fallback();
+                    break;
+                case MOST:
+                    most();
+                    break;
+                default:
+                    ratio(what);
             }
         }
 
@@ -1362,32 +1366,27 @@ public final class ShareLife {
             return inChoice ? text.choiceCount - 1 : OUTSIDE;
         }
 
-        /** The rest of a clause that does something. */
-        private void place(int what) {
-            int in = row();
+        /** Keeps a clause that does something, with the block that it stands in. */
+        private void store(int what, int m, int q, int n) {
             int index = text.size;
-            if (index >= MOST_CLAUSES) {
+            if (flaw != 0 || index >= MOST_CLAUSES) {
                 return;
             }
-            text.row[index] = in;
+            text.row[index] = row();
             text.inside[index] = depth > 0 ? opens[depth - 1] : NONE;
-            if (what == WHEN) {
-                when();
-            } else if (what == FRACTION) {
-                fraction();
-            } else if (what == WORTH) {
-                int parts = number(0, WHOLE_WORTH);
-                keyword("to");
-                text.add(WORTH, parts, number(0, PAPERS - 1), 0);
-                sign(';');
-            } else {
-                ratio(what);
-            }
-            if (what == TAKE && in == OUTSIDE) {
-                takesOutside = true;
-            } else if (what == TAKE) {
-                takesInside = true;
-            }
+            text.kind[index] = what;
+            text.m[index] = m;
+            text.q[index] = q;
+            text.n[index] = n;
+            text.size++;
+        }
+
+        private void moveWorth() {
+            int parts = number(0, WHOLE_WORTH);
+            keyword("to");
+            int q = number(0, PAPERS - 1);
+            sign(';');
+            store(WORTH, parts, q, 0);
         }
 
         private void ratio(int what) {
@@ -1400,8 +1399,11 @@ public final class ShareLife {
             }
             keyword("for");
             int n = number(what == TAKE ? m : 1, MOST_RATIO);
-            text.add(what, m, q, n);
             sign(';');
+            store(what, m, q, n);
+            boolean outside = row() == OUTSIDE;
+            takesOutside = takesOutside || what == TAKE && outside;
+            takesInside = takesInside || what == TAKE && !outside;
         }
 
         private void fraction() {
@@ -1426,8 +1428,8 @@ public final class ShareLife {
             if (rule == IN_COIN) {
                 price = number(0, GREATEST);
             }
-            text.add(FRACTION, rule, NONE, price);
             sign(';');
+            store(FRACTION, rule, NONE, price);
         }
 
         private void when() {
@@ -1440,7 +1442,7 @@ public final class ShareLife {
             }
             int than = number(0, GREATEST);
             int index = text.size;
-            text.add(WHEN, than, compares, 0);
+            store(WHEN, than, compares, 0);
             push(index * 2);
         }
 
@@ -1526,39 +1528,26 @@ public final class ShareLife {
         final long[] realized = new long[MOST_ACCOUNTS];
         final int[] settled = new int[MOST_TRADES];
         final long[][] kept = new long[MOST_EVENTS][MOST_CHOICES * MOST_ACCOUNTS];
-        private final Accounts accounts;
-        private final ArrayList<Move> issues;
-        private final ArrayList<Move> trades;
-        private final ArrayList<Event> events;
-        private final ArrayList<Pick> picks;
+        final Accounts accounts = new Accounts();
+        final ArrayList<Move> issues = new ArrayList<Move>();
+        final ArrayList<Move> trades = new ArrayList<Move>();
+        final ArrayList<Event> events = new ArrayList<Event>();
+        final ArrayList<Pick> picks = new ArrayList<Pick>();
         private final int[] order = new int[MOST_ISSUES + MOST_TRADES + MOST_EVENTS];
         private int count;
         private int next;
-        private int reached;
-        private final long[] holding = new long[ROWS];
         private final long[] cut = new long[MOST_ACCOUNTS];
         private final long[] quota = new long[MOST_ACCOUNTS];
         private final int[] firstGiven = new int[MOST_ACCOUNTS];
 
-        Run(Accounts accounts, ArrayList<Move> issues, ArrayList<Move> trades,
-                ArrayList<Event> events, ArrayList<Pick> picks) {
-            this.accounts = accounts;
-            this.issues = issues;
-            this.trades = trades;
-            this.events = events;
-            this.picks = picks;
-        }
-
         /** Brings the state to the end of a day, or to the event that made too much. */
         void to(int day) {
-            if (stale || day < reached) {
+            if (stale || next > 0 && dayAt(next - 1) > day) {
                 restart();
             }
-            for (; next < count && !over && order[next] / (KINDS * NUMBERS) <= day; next++) {
-                int key = order[next];
-                int kind = key / NUMBERS % KINDS;
-                int number = key % NUMBERS;
-                reached = key / (KINDS * NUMBERS);
+            for (; next < count && !over && dayAt(next) <= day; next++) {
+                int kind = order[next] / NUMBERS % KINDS;
+                int number = order[next] % NUMBERS;
                 if (kind == ISSUING && number < issues.size()) {
                     runIssue(issues.get(number));
                 } else if (kind == TRADING && number < trades.size()) {
@@ -1569,11 +1558,14 @@ public final class ShareLife {
             }
         }
 
+        private int dayAt(int at) {
+            return order[at] / (KINDS * NUMBERS);
+        }
+
         private void restart() {
             stale = false;
             over = false;
             next = 0;
-            reached = 0;
             count = 0;
             for (int paper = 0; paper < PAPERS; paper++) {
                 Arrays.fill(held[paper], 0);
@@ -1739,9 +1731,9 @@ public final class ShareLife {
         private void serve(Event happened, int head) {
             Text text = happened.text;
             for (int row = 0; row < ROWS; row++) {
-                holding[row] = accounts.all[row][head];
+                text.holding[row] = accounts.all[row][head];
             }
-            text.work(holding);
+            text.work();
             for (int i = 0; i < text.size; i++) {
                 if (text.live[i] && text.kind[i] == GIVE) {
                     hand(held[text.q[i]], text.shares[i], head, text.row[i]);
@@ -1753,7 +1745,7 @@ public final class ShareLife {
                 hand(pennies, text.pennies[i], head, text.row[i]);
             }
             for (int row = 0; row < ROWS; row++) {
-                hand(held[happened.paper], -text.taken(row, holding[row]), head, row);
+                hand(held[happened.paper], -text.taken(row), head, row);
             }
         }
 
