@@ -1165,24 +1165,22 @@ public final class ShareLife {
                     at++;
                 }
             } else if (isDigit(at)) {
-                readDigits();
+                token = DIGITS;
+                value = 0;
+                while (at < end && isDigit(at)) {
+                    if (at - start < MOST_DIGITS) {
+                        value = value * 10 + tape[at] - '0';
+                    } else {
+                        token = BAD;
+                    }
+                    at++;
+                }
             } else {
                 int sign = tape[at];
                 boolean known = sign == ';' || sign == '{' || sign == '}' || sign == '<' || sign == '>';
                 token = known ? sign : BAD;
                 at++;
             }
-        }
-
-        private void readDigits() {
-            value = 0;
-            while (at < end && isDigit(at)) {
-                if (at - start < MOST_DIGITS) {
-                    value = value * 10 + tape[at] - '0';
-                }
-                at++;
-            }
-            token = at - start > MOST_DIGITS ? BAD : DIGITS;
         }
 
         private boolean isLetter(int i) {
