@@ -252,6 +252,8 @@ public final class Promises {
         fault("give 1 of 19 for 1000;take 1000 for 1000;coin 0 for 1;pay 9999999 for 1;worth 0 to 0;worth 1000 to 19;", 0, NONE);
         fault("fraction up;fraction near;fraction coin 0;when has<0{}else{}when has > 1 { }", 0, NONE);
         fault("give1of0for1;", 0, NONE);
+        fault("choice az{}default az;", 0, NONE);
+        fault("choice z{}default z;", 0, NONE);
         fault("choice a{most 0 rata;}choice abcdefgh{most 1 small 0;}choice choice{}default a;", 0, NONE);
         fault("Give 1 of 0 for 1;", 1, 0);
         fault("give +1 of 0 for 1;", 1, 5);
@@ -498,6 +500,26 @@ public final class Promises {
         fine("parted", x.own(1, 0, 2), 1);
         event(0, 3, "take 1 for 1;take 1 for 2;give 1 of 0 for 2;");
         fine("together at most T; gives count behind", x.total(0, 0, 3), 1);
+    }
+
+    private static void manyUnderOne() {
+        promise = 13;
+        x = new ShareLife();
+        x.account(NONE, 0, 0);
+        x.issue(0, 0, 1, 1, 0, 0);
+        for (int i = 1; i < 20; i++) {
+            x.account(0, 0, 0);
+            x.issue(i, 0, 1, 1, 0, 0);
+        }
+        event(0, 2, "give 13 of 1 for 20;");
+        for (int i = 0; i < 20; i++) {
+            fine("nineteen under one, account " + i, x.own(i, 1, 2), i < 13 ? 1 : 0);
+        }
+        event(0, 3, times("coin 1 for 1;", 30));
+        fine("thirty clauses", x.coin(19, 0, 3), 30);
+        fine("thirty clauses", x.brings(1, NONE, 2), 60);
+        x.trade(0, 1, 0, 1, 1, 4, 0);
+        fine("thirty clauses", x.due(0, 1, NONE), 30);
     }
 
     private static void total() {
@@ -914,6 +936,23 @@ public final class Promises {
         event(1, 2, "give 1 of 1 for 997;give 1 of 1 for 991;give 1 of 1 for 983;give 1 of 1 for 977;give 1 of 1 for 7;"
                 + "take 1 for 997;take 1 for 991;take 1 for 983;take 1 for 977;take 1 for 7;");
         refused("clause behind clause", x.term(1, 0, 2), 8);
+        x.option(3, 0, 1, 1, 0);
+        event(3, 1, "take 996 for 997;give 1 of 3 for 991;give 1 of 3 for 983;give 1 of 3 for 977;");
+        fine("a lower number of near 1,000,000,000,000", x.term(3, 1, 1));
+        due("lower", x.lower(), 997L * 991 * 983 * 977);
+        x.option(4, 0, 1, 1, 0);
+        event(4, 1, "take 996 for 997;give 1 of 4 for 991;give 1 of 4 for 983;give 1 of 4 for 977;give 1 of 4 for 3;"
+                + "take 1 for 3;");
+        refused("only the lower number is above it on the way", x.term(4, 1, 1), 8);
+        x.option(5, 0, 1, 1, 0);
+        for (int day = 1; day <= 4; day++) {
+            event(5, day, "take 1 for 1; give 1 of 5 for 1000;");
+        }
+        fine("1,000,000,000,000 below", x.term(5, 1, 4));
+        due("upper", x.upper(), 1);
+        due("lower", x.lower(), 1000000000000L);
+        fine("1,000,000,000,000 above", x.term(5, 0, 4));
+        due("upper", x.upper(), 1000000000000L);
         event(2, 1, "take 1 for 2;take 1 for 2;take 1 for 2;give 3 of 2 for 2;");
         fine("below 0 on the way is none", x.term(2, 1, 1));
         due("number", x.upper(), 10000);
@@ -1094,6 +1133,14 @@ public final class Promises {
         x.hint(0, 1, 2, 1000, 999, true);
         x.hint(1, 0, 3, 1, 1000, true);
         refused("more on the way", x.explain(0, 1000000, 0, 0, 1001001, 4), 5);
+        x = new ShareLife();
+        x.hint(0, 0, 1, 963, 1, true);
+        x.hint(0, 0, 2, 994, 1, true);
+        x.hint(0, 1, 3, 953, 907, true);
+        x.hint(1, 0, 4, 1, 1000, true);
+        x.hint(0, 2, 2, 1, 1000, false);
+        refused("1,000,000,000,001 on the way", x.explain(0, 994264, 0, 0, 1000000000, 4), 5);
+        fine("not so by another way", x.explain(0, 994264, 0, 2, 951731374, 4), 1);
     }
 
     private static void rivals() {
@@ -1111,6 +1158,14 @@ public final class Promises {
         fine("of the latest with status 0", x.rivals(), 4);
         x.explain(0, 1, 0, 0, 4, 5);
         fine("the fifth alone", x.rivals(), 1);
+        x = new ShareLife();
+        for (int i = 0; i < 12; i++) {
+            x.hint(0, 0, 5, 2, 1, false);
+        }
+        fine("six of twelve", x.explain(0, 1, 0, 0, 64, 5), 6);
+        fine("as many as there are", x.rivals(), 924);
+        fine("all twelve", x.explain(0, 1, 0, 0, 4096, 5), 12);
+        fine("one", x.rivals(), 1);
     }
 
     private static void because() {
@@ -1154,6 +1209,7 @@ public final class Promises {
         own();
         fractions();
         takes();
+        manyUnderOne();
         total();
         worth();
         worthOfChoices();
