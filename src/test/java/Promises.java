@@ -1164,6 +1164,8 @@ public final class Promises {
         }
         fine("six of twelve", x.explain(0, 1, 0, 0, 64, 5), 6);
         fine("as many as there are", x.rivals(), 924);
+        fine("eleven of twelve", x.explain(0, 1, 0, 0, 2048, 5), 11);
+        fine("each may be left out", x.rivals(), 12);
         fine("all twelve", x.explain(0, 1, 0, 0, 4096, 5), 12);
         fine("one", x.rivals(), 1);
     }
