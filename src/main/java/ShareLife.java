@@ -26,6 +26,8 @@ public final class ShareLife {
     private static final int LAST_NAME = 9999;
     private static final long MOST_TOTAL = 1000000000L;
     private static final long MOST_PART = 1000000000000L;
+    /** Of twenty accounts together, given 1,000 for 1 by each of thirty clauses, still a long. */
+    private static final long MOST_HELD = 10000000000000L;
 
     private static final int MOST_BYTES = 400;
     private static final int BYTES_FED = 20;
@@ -301,12 +303,9 @@ public final class ShareLife {
         if (refused(hasEvent(event) && hasAccount(account) ? 0 : NO_SUCH)) {
             return NONE;
         }
-        if (refused(events.get(event).counts(run.asof) ? 0 : UNTOLD)) {
-            return NONE;
-        }
         int choice = run.choiceOf(event, account);
-        refused(choice == NONE ? THERE_IS_NONE : 0);
-        return choice;
+        boolean counts = events.get(event).counts(run.asof);
+        return refused(noneOrUntold(choice, counts)) ? NONE : choice;
     }
 
     public int stays(int event, int account, int choice) {
@@ -329,12 +328,16 @@ public final class ShareLife {
         }
         Pick pick = picks.get(choice);
         boolean counts = pick.counts(run.asof) && hasEvent(pick.event) && events.get(pick.event).counts(run.asof);
-        if (refused(counts ? 0 : UNTOLD)) {
-            return NONE;
-        }
         int hand = run.bearerOf(pick);
-        refused(hand == NONE ? THERE_IS_NONE : 0);
-        return hand;
+        return refused(noneOrUntold(hand, counts)) ? NONE : hand;
+    }
+
+    /** That there is none comes ahead of that it does not count. */
+    private static int noneOrUntold(int found, boolean counts) {
+        if (found == NONE) {
+            return THERE_IS_NONE;
+        }
+        return counts ? 0 : UNTOLD;
     }
 
     public int done(int trade) {
@@ -371,7 +374,7 @@ public final class ShareLife {
         return owingSide(deal, happened) * givenTo(happened.text, deal.shares, paper);
     }
 
-    /** That it failed comes ahead of too much, which an event may bring later on the same day. */
+    /** That it failed comes ahead of too much. */
     private int settledStatus(int trade) {
         if (run.settled[trade] == 0) {
             return UNTOLD;
@@ -461,25 +464,29 @@ public final class ShareLife {
         return isDay(day) && hasOption(option) && day >= options.get(option).day;
     }
 
-    /** Takes an option through the events up to a day; what it is then stands in optionPaper, strikeNow, numberNow. */
+    /**
+     * Takes an option through the events up to a day, past too much as well, since that it ended comes first; what it is
+     * then stands in optionPaper, strikeNow, numberNow.
+     */
     private int follow(Since option, int day) {
-        if (!option.counts(run.asof)) {
-            return UNTOLD;
-        }
         optionPaper = option.paper;
         strikeNow.put(option.strike);
         numberNow.put(option.number);
         int behind = option.day * NUMBERS - 1;
-        int answer = 0;
-        for (int k = 0; k < MOST_EVENTS && answer == 0; k++) {
+        for (int k = 0; k < MOST_EVENTS; k++) {
             int key = nextEvent(behind, day);
             if (key == NONE) {
                 break;
             }
             behind = key;
-            answer = adjust(events.get(key % NUMBERS));
+            if (!adjust(events.get(key % NUMBERS))) {
+                return THERE_IS_NONE;
+            }
         }
-        return answer;
+        if (!option.counts(run.asof)) {
+            return UNTOLD;
+        }
+        return numberNow.over || strikeNow.over ? TOO_MUCH : 0;
     }
 
     /** The key (its record day and number) of the first event behind another that changes options on optionPaper. */
@@ -496,7 +503,8 @@ public final class ShareLife {
         return least;
     }
 
-    private int adjust(Event happened) {
+    /** Whether anything is left of the option behind an event. */
+    private boolean adjust(Event happened) {
         Text text = happened.text;
         int given = text.firstGive();
         if (given != NONE && text.takesAll()) {
@@ -507,14 +515,12 @@ public final class ShareLife {
             text.addUp(happened.paper, factor);
         }
         if (factor.over) {
-            return TOO_MUCH;
+            numberNow.over = true;
+        } else {
+            numberNow.times(factor.above, factor.below);
+            strikeNow.times(factor.below, factor.above);
         }
-        if (factor.above <= 0) {
-            return THERE_IS_NONE;
-        }
-        numberNow.times(factor.above, factor.below);
-        strikeNow.times(factor.below, factor.above);
-        return numberNow.over || strikeNow.over ? TOO_MUCH : 0;
+        return factor.isLeft();
     }
 
     // ---- rates
@@ -798,6 +804,10 @@ public final class ShareLife {
 
     /** The tree of accounts, and how what comes to a top account is parted down through it. */
     private static final class Accounts {
+        private static final long SQUARE_FITS = 3000000000L;
+        /** All weights together stay below 2 to this, past too much as well. */
+        private static final int WEIGHT_BITS = 48;
+
         int count;
         final int[] under = new int[MOST_ACCOUNTS];
         final int[] lead = new int[MOST_ACCOUNTS];
@@ -912,13 +922,9 @@ public final class ShareLife {
                 Arrays.fill(share, 0);
                 return;
             }
-            // The product of amount and weight may pass a long; that of the remainder and weight can't.
-            long whole = amount / weights;
-            long remainder = amount % weights;
             long left = amount;
             for (int i = 0; i < parts; i++) {
-                share[i] = whole * weight[i] + remainder * weight[i] / weights;
-                rest[i] = remainder * weight[i] % weights;
+                portion(i, amount, weights);
                 left -= share[i];
             }
             for (int rounds = 0; rounds < parts && left > 0; rounds++) {
@@ -932,6 +938,28 @@ public final class ShareLife {
                 rest[greatest] = NONE;
                 left--;
             }
+        }
+
+        /** The product of amount and weight may pass a long; that of the remainder and weight only past too much. */
+        private void portion(int i, long amount, long weights) {
+            if (weights <= 0) {
+                return;
+            }
+            long remainder = amount % weights;
+            share[i] = amount / weights * weight[i];
+            if (weights <= SQUARE_FITS) {
+                share[i] += remainder * weight[i] / weights;
+                rest[i] = remainder * weight[i] % weights;
+                return;
+            }
+            long quotient = 0;
+            rest[i] = 0;
+            for (int bit = WEIGHT_BITS - 1; bit >= 0; bit--) {
+                long twice = 2 * rest[i] + (remainder >> bit & 1) * weight[i];
+                quotient = 2 * quotient + twice / weights;
+                rest[i] = twice % weights;
+            }
+            share[i] += quotient;
         }
     }
 
@@ -1538,12 +1566,12 @@ public final class ShareLife {
         private final long[] quota = new long[MOST_ACCOUNTS];
         private final int[] firstGiven = new int[MOST_ACCOUNTS];
 
-        /** Brings the state to the end of a day, or to the event that made too much. */
+        /** Brings the state to the end of a day, past too much as well: a trade behind it is done or has failed. */
         void to(int day) {
             if (stale || next > 0 && dayAt(next - 1) > day) {
                 restart();
             }
-            for (; next < count && !over && dayAt(next) <= day; next++) {
+            for (; next < count && dayAt(next) <= day; next++) {
                 int kind = order[next] / NUMBERS % KINDS;
                 int number = order[next] % NUMBERS;
                 if (kind == ISSUING && number < issues.size()) {
@@ -1740,7 +1768,9 @@ public final class ShareLife {
                 if (text.live[i] && text.kind[i] == WORTH) {
                     moveWorth(happened.paper, text, i, head);
                 }
-                hand(pennies, text.pennies[i], head, text.row[i]);
+                if (!over) {
+                    hand(pennies, text.pennies[i], head, text.row[i]);
+                }
             }
             for (int row = 0; row < ROWS; row++) {
                 hand(held[happened.paper], -text.taken(row), head, row);
@@ -1802,21 +1832,46 @@ public final class ShareLife {
                     over = over || accounts.owed[a] > MOST_TOTAL;
                 }
             }
+            if (over) {
+                bound();
+            }
+        }
+
+        /** Past too much no number is told, so shares far above any trade are cut to keep all products in a long. */
+        private void bound() {
+            for (int paper = 0; paper < PAPERS; paper++) {
+                for (int a = 0; a < accounts.count; a++) {
+                    held[paper][a] = Math.min(held[paper][a], MOST_HELD);
+                }
+            }
         }
     }
 
     /** Held without a common divisor, the lower number above 0; over once a part was too great. */
     private static final class Fraction {
         private static final int MOST_STEPS = 100;
+        private static final int LIMB_BITS = 40;
+        private static final long LIMB = (1L << LIMB_BITS) - 1;
+        /** What thirty clauses add up to, each with numbers up to 1,000, has fewer than 9 * 40 bits. */
+        private static final int LIMBS = 9;
 
         long above;
         long below = 1;
         boolean over;
+        /** The sum once more, however great its parts: what came less what went, both by one lower number. */
+        private final long[] came = new long[LIMBS];
+        private final long[] went = new long[LIMBS];
+        private final long[] wideBelow = new long[LIMBS];
 
         void put(long whole) {
             above = whole;
             below = 1;
             over = false;
+            Arrays.fill(came, 0);
+            Arrays.fill(went, 0);
+            Arrays.fill(wideBelow, 0);
+            came[0] = whole;
+            wideBelow[0] = 1;
         }
 
         /** By m / n, both above 0 and not above MOST_PART; divided first so that no product passes a long. */
@@ -1842,7 +1897,14 @@ public final class ShareLife {
         }
 
         void plus(long m, long n) {
-            if (over || n <= 0) {
+            if (n <= 0) {
+                return;
+            }
+            addTimes(came, came, n - 1);
+            addTimes(went, went, n - 1);
+            addTimes(m < 0 ? went : came, wideBelow, Math.abs(m));
+            addTimes(wideBelow, wideBelow, n - 1);
+            if (over) {
                 return;
             }
             long up = above * n + m * below;
@@ -1851,6 +1913,25 @@ public final class ShareLife {
             above = up / common;
             below = low / common;
             over = Math.abs(above) > MOST_PART || below > MOST_PART;
+        }
+
+        /** Whether it is above 0, which can be told past too much. */
+        boolean isLeft() {
+            int at = LIMBS - 1;
+            while (at > 0 && came[at] == went[at]) {
+                at--;
+            }
+            return came[at] > went[at];
+        }
+
+        /** Both rows may be the same one, as each limb is read ahead of being written. */
+        private static void addTimes(long[] row, long[] other, long by) {
+            long carry = 0;
+            for (int i = 0; i < LIMBS; i++) {
+                long sum = row[i] + other[i] * by + carry;
+                row[i] = sum & LIMB;
+                carry = sum >>> LIMB_BITS;
+            }
         }
 
         /** Never below 1, so that it may divide. */

@@ -301,6 +301,8 @@ public final class AgainstOracle {
         Map<Integer, Integer> done = new HashMap<>();
         Map<Integer, long[][]> kept = new HashMap<>();
         boolean over;
+        /** Past this the second reading does not follow what became. */
+        boolean lost;
     }
 
     /** What one top account gets from a script. */
@@ -395,6 +397,8 @@ public final class AgainstOracle {
         BigInteger low = BigInteger.ONE;
         List<Integer> because;
         int rivals;
+        /** Of the latest due(): whether the trade was done lies past what the second reading follows. */
+        boolean unsure;
 
         static boolean day(int d) {
             return d >= 0 && d <= 40000;
@@ -657,7 +661,7 @@ public final class AgainstOracle {
                     settle(w, h);
                 } else {
                     happen(w, h);
-                    if (w.over) {
+                    if (w.lost) {
                         return w;
                     }
                 }
@@ -781,6 +785,7 @@ public final class AgainstOracle {
             for (int p = 0; p < 20; p++) {
                 for (int a = 0; a < accounts.size(); a++) {
                     w.over |= sum(w.own[p], a) > 1000000000L;
+                    w.lost |= sum(w.own[p], a) > 10000000000000L;
                 }
             }
         }
@@ -791,6 +796,9 @@ public final class AgainstOracle {
             long amount = (Long) step[2];
             int row = (Integer) step[3];
             long[] parts = new long[20];
+            if (what.equals("coin") && w.over) {
+                return;
+            }
             if (!what.equals("worth")) {
                 part(Math.abs(amount), top, mine[row], parts);
             }
@@ -845,11 +853,11 @@ public final class AgainstOracle {
             if (!need(ev(e) && acc(a), true, true, true)) {
                 return NONE;
             }
-            if (!events.get(e).seen(asof)) {
-                return no(7);
-            }
             int c = pick(e, a);
-            return c == NONE ? no(5) : c;
+            if (c == NONE) {
+                return no(5);
+            }
+            return events.get(e).seen(asof) ? c : no(7);
         }
 
         long stays(int e, int a, int c) {
@@ -868,9 +876,6 @@ public final class AgainstOracle {
                 return NONE;
             }
             Said s = said.get(c);
-            if (!s.seen(asof) || !events.get(s.event).seen(asof)) {
-                return no(7);
-            }
             int leads = 0;
             for (int hand : way(s.account)) {
                 leads += accounts.get(hand)[1];
@@ -880,7 +885,7 @@ public final class AgainstOracle {
             }
             for (int hand : way(s.account)) {
                 if (accounts.get(hand)[2] > accounts.get(hand)[1]) {
-                    return hand;
+                    return s.seen(asof) && events.get(s.event).seen(asof) ? hand : no(7);
                 }
             }
             throw new IllegalStateException("nobody bears it");
@@ -898,6 +903,7 @@ public final class AgainstOracle {
         }
 
         long due(int t, int e, int p) {
+            unsure = false;
             if (!need(in(t, 0, trades.size() - 1) && ev(e) && (p == NONE || pap(p)), true, true, true)) {
                 return NONE;
             }
@@ -910,6 +916,7 @@ public final class AgainstOracle {
             if (Integer.valueOf(0).equals(w.done.get(t))) {
                 return no(7);
             }
+            unsure = w.lost && w.done.get(t) == null;
             if (w.over) {
                 return no(8);
             }
@@ -962,10 +969,8 @@ public final class AgainstOracle {
         BigInteger[] numberAt;
 
         int walk(Opt o, int day) {
-            if (!o.seen(asof)) {
-                return 7;
-            }
             on = o.paper;
+            boolean much = false;
             strikeAt = new BigInteger[] {big(o.strike), BigInteger.ONE};
             numberAt = new BigInteger[] {big(o.count), BigInteger.ONE};
             List<Happening> list = new ArrayList<>(events);
@@ -976,11 +981,15 @@ public final class AgainstOracle {
                     continue;
                 }
                 int s = turn(h);
-                if (s != 0) {
+                if (s == 5) {
                     return s;
                 }
+                much |= s == 8;
             }
-            return 0;
+            if (!o.seen(asof)) {
+                return 7;
+            }
+            return much ? 8 : 0;
         }
 
         int turn(Happening h) {
@@ -1009,15 +1018,12 @@ public final class AgainstOracle {
             } else if (!touched) {
                 return 0;
             }
-            if (much) {
-                return 8;
-            }
             if (f[0].signum() <= 0) {
                 return 5;
             }
             numberAt = low(numberAt[0].multiply(f[0]), numberAt[1].multiply(f[1]));
             strikeAt = low(strikeAt[0].multiply(f[1]), strikeAt[1].multiply(f[0]));
-            return much(numberAt) || much(strikeAt) ? 8 : 0;
+            return much || much(numberAt) || much(strikeAt) ? 8 : 0;
         }
 
         boolean opt(int o) {
@@ -1554,7 +1560,9 @@ public final class AgainstOracle {
                 case 11:
                 case 12: {
                     int q = k.odds(3) ? NONE : p;
-                    return check("due(" + t + ", " + e + ", " + q + ")", x.due(t, e, q), o.due(t, e, q));
+                    long got = x.due(t, e, q);
+                    long want = o.due(t, e, q);
+                    return o.unsure || check("due(" + t + ", " + e + ", " + q + ")", got, want);
                 }
                 case 13:
                     return check("optionOn", x.optionOn(i, d), o.optionOn(i, d));

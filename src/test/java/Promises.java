@@ -429,7 +429,7 @@ public final class Promises {
         fine("as of 2 the trade counts", x.coin(0, 0, 5), 6);
         fine("strike the event", x.strike(1, 0, 5));
         x.asof(40000);
-        refused("the event does not count", x.chosen(0, 0), 7);
+        refused("the event does not count", x.stays(0, 0, 0), 7);
         refused("a day gone by strikes", x.issue(0, 0, 1, 1, 1, 4), 4);
         refused("struck already, even as of a day ahead", x.strike(1, 0, 5), 4);
     }
@@ -657,12 +657,23 @@ public final class Promises {
         refused("without choices", x.chosen(2, 0), 5);
         refused("no event", x.chosen(3, 0), 1);
         refused("no account", x.chosen(0, 3), 1);
+        x.choose(1, 1, 0, 5, 2);
         x.strike(1, 1, 3);
-        refused("struck", x.chosen(1, 0), 7);
+        refused("struck, but said", x.chosen(1, 1), 7);
+        refused("struck, and none is said: that comes first", x.chosen(1, 0), 5);
+        x.strike(2, 7, 3);
+        refused("what was said is struck too", x.chosen(1, 1), 5);
+        x.strike(1, 0, 4);
+        refused("struck, but with a default", x.chosen(0, 2), 7);
         feed("choice a{}");
         x.event(0, 10, 5, 5, 5, 9);
+        feed("choice a{}default a;");
+        x.event(0, 20, 5, 5, 5, 9);
+        x.choose(3, 0, 0, 1, 9);
         x.asof(8);
-        refused("not known then", x.chosen(3, 0), 7);
+        refused("neither known then, nor what was said", x.chosen(3, 0), 5);
+        refused("not known then, but with a default", x.chosen(4, 0), 7);
+        refused("no account comes ahead of all", x.chosen(3, 3), 1);
     }
 
     private static void stays() {
@@ -763,13 +774,19 @@ public final class Promises {
         refused("no choice", x.bears(-1), 1);
         x.strike(2, 3, 2);
         refused("struck", x.bears(3), 7);
+        x.strike(2, 5, 2);
+        refused("struck, but in time: that none bears it comes first", x.bears(5), 5);
+        x.strike(2, 4, 2);
+        refused("struck, but not good", x.bears(4), 5);
         x.asof(0);
         refused("not known", x.bears(1), 7);
+        refused("not known, but in time", x.bears(0), 5);
         x.asof(1);
         fine("known, and not struck yet", x.bears(3), 0);
         x.strike(1, 0, 3);
         x.asof(3);
         refused("its event is struck", x.bears(1), 7);
+        refused("its event is struck, but in time", x.bears(0), 5);
     }
 
     private static void done() {
@@ -837,6 +854,68 @@ public final class Promises {
         event3(1, 13, "give 1000 of 1 for 1;");
         refused("too much", x.due(5, 0, 0), 8);
         refused("that it failed comes first", x.due(6, 0, 0), 7);
+        x.trade(1, 0, 0, 1000000, 9, 20, 3);
+        x.trade(0, 1, 0, 1, 9, 20, 3);
+        refused("it failed behind too much", x.due(7, 0, 0), 7);
+        refused("it is done behind too much", x.due(8, 0, 0), 8);
+        refused("whether it is done is not told behind too much", x.done(7), 8);
+    }
+
+    /** Trades behind several events that make too much: whether they fail goes by shares that are told no more. */
+    private static void duesPastTooMuch() {
+        start(21);
+        x.account(NONE, 0, 0);
+        x.account(0, 0, 0);
+        x.account(0, 0, 0);
+        x.account(NONE, 0, 0);
+        x.issue(0, 0, 1, 999995, 0, 0);
+        x.issue(1, 0, 1, 2, 0, 0);
+        x.issue(2, 0, 1, 3, 0, 0);
+        event(0, 10, "give 999 of 0 for 1; coin 9999999 for 1;");
+        event(0, 11, "give 999 of 0 for 1; coin 9999999 for 1;");
+        for (int day = 12; day <= 14; day++) {
+            event(0, day, "take 999 for 1000;");
+        }
+        // from, to, day, shares, and whether it fails by what there is: 2,000 on day 13, 2 on day 14, 0 and 1,000 then
+        int[][] trades = {{1, 2, 13, 2001, 7}, {1, 2, 13, 2000, 8}, {2, 1, 13, 5001, 7}, {2, 1, 13, 2000, 8},
+            {1, 2, 14, 3, 7}, {1, 2, 15, 1, 7}, {0, 1, 15, 1001, 7}, {0, 1, 15, 1000, 8}, {1, 0, 15, 1000, 8}};
+        for (int i = 0; i < trades.length; i++) {
+            x.trade(trades[i][0], trades[i][1], 0, trades[i][3], 0, trades[i][2], 0);
+            refused("trade " + i, x.due(i, 0, 0), trades[i][4]);
+        }
+        for (int day = 16; day < 25; day++) {
+            event(0, day, "give 1000 of 0 for 1;give 1000 of 0 for 1;give 1000 of 0 for 1;coin 9999999 for 1;");
+        }
+        x.trade(3, 0, 0, 1, 0, 30, 0);
+        x.trade(0, 3, 0, 1000000, 0, 30, 0);
+        x.trade(3, 1, 0, 1000000, 0, 30, 0);
+        x.trade(3, 1, 0, 1, 0, 30, 0);
+        refused("none still", x.due(9, 0, 0), 7);
+        refused("far more than enough", x.due(10, 0, 0), 8);
+        refused("what came", x.due(11, 0, 0), 8);
+        refused("none is left of it", x.due(12, 0, 0), 7);
+        fine("ahead of too much all is told", x.own(1, 0, 9), 2);
+        fine("ahead of too much all is told", x.coin(0, 0, 9), 0);
+        greatParts();
+    }
+
+    /** 162,000,081,000,000 shares under one hand, parted to the share. */
+    private static void greatParts() {
+        x = new ShareLife();
+        x.account(NONE, 0, 0);
+        for (int i = 1; i < 20; i++) {
+            x.account(0, 0, 0);
+            x.issue(i, 0, 1, i < 19 ? 1000000 : 9, 0, 0);
+        }
+        event(0, 10, "give 999 of 0 for 1;");
+        event(0, 11, "give 999 of 0 for 1;");
+        event(0, 12, "give 8 of 0 for 1;");
+        event(0, 13, "take 999 for 1000;");
+        event(0, 14, "take 999 for 1000;");
+        x.trade(19, 1, 0, 82, 0, 15, 0);
+        x.trade(19, 1, 0, 81, 0, 15, 0);
+        refused("82 of 81", x.due(0, 0, 0), 7);
+        refused("81 of 81", x.due(1, 0, 0), 8);
     }
 
     private static void option() {
@@ -882,6 +961,49 @@ public final class Promises {
         fine("struck events don't count", x.optionOn(0, 8), 1);
     }
 
+    /** That it ended comes ahead of that it does not count, and both ahead of too much. */
+    private static void endedOptions() {
+        start(23);
+        x.option(0, 0, 1, 10000, 0);
+        for (int day = 1; day <= 3; day++) {
+            event(0, day, "give 999 of 0 for 1;");
+        }
+        event(0, 5, "take 1 for 1; give 1 of 1 for 1;");
+        event(1, 6, "take 1 for 1;");
+        fine("10,000,000,000", x.optionOn(0, 2), 0);
+        refused("10,000,000,000,000", x.optionOn(0, 3), 8);
+        refused("too much still", x.optionOn(0, 5), 8);
+        refused("it ended on another paper", x.optionOn(0, 6), 5);
+        refused("term: too much", x.term(0, 0, 5), 8);
+        refused("term: it ended", x.term(0, 1, 6), 5);
+        x.option(1, 6, 1, 1, 4);
+        x.option(0, 1, 1, 10000, 4);
+        x.asof(3);
+        refused("not known, but ended by what is", x.optionOn(1, 6), 5);
+        refused("not known, and too much", x.optionOn(2, 5), 7);
+        refused("ahead of its own day comes first", x.optionOn(1, 5), 2);
+        start(23);
+        x.option(0, 0, 1, 1, 0);
+        String much = "take 996 for 997;take 990 for 991;take 982 for 983;take 976 for 977;take 970 for 971;";
+        event(0, 1, much);
+        refused("what the takes add up to is too much, and nothing is left", x.optionOn(0, 1), 5);
+        x.option(1, 0, 1, 1, 0);
+        event(1, 1, much + "give 4 of 1 for 1;");
+        refused("something is left", x.optionOn(1, 1), 8);
+        x.option(2, 0, 1, 1, 0);
+        event(2, 1, much + "give 1 of 2 for 997;give 1 of 2 for 991;give 1 of 2 for 983;give 1 of 2 for 977;"
+                + "give 1 of 2 for 971;give 4 of 2 for 1;");
+        refused("1 and 5 and 4 less 5 is left", x.optionOn(2, 1), 8);
+        x.option(3, 0, 1, 1, 0);
+        event(3, 1, much + "give 996 of 3 for 997;give 990 of 3 for 991;give 982 of 3 for 983;give 976 of 3 for 977;"
+                + "give 970 of 3 for 971;take 1 for 2;take 1 for 2;");
+        refused("just nothing is left", x.optionOn(3, 1), 5);
+        event(4, 1, much + "give 996 of 4 for 997;give 990 of 4 for 991;give 982 of 4 for 983;give 976 of 4 for 977;"
+                + "give 970 of 4 for 971;take 1 for 2;take 499 for 1000;");
+        x.option(4, 0, 1, 1, 0);
+        refused("a thousandth is left", x.optionOn(4, 1), 8);
+    }
+
     private static void term() {
         start(24);
         x.option(0, 5, 100, 10, 0);
@@ -912,7 +1034,8 @@ public final class Promises {
         due("the fraction stands", x.upper(), 400);
         x.asof(0);
         x.option(0, 5, 1, 1, 1);
-        refused("not known", x.term(2, 0, 8), 7);
+        refused("not known", x.term(2, 0, 7), 7);
+        refused("not known, but ended by what is", x.term(2, 0, 8), 5);
     }
 
     private static void greatTerms() {
@@ -1223,8 +1346,10 @@ public final class Promises {
         bears();
         done();
         dues();
+        duesPastTooMuch();
         option();
         optionOn();
+        endedOptions();
         term();
         greatTerms();
         upperLower();
