@@ -26,8 +26,6 @@ public final class ShareLife {
     private static final int LAST_NAME = 9999;
     private static final long MOST_TOTAL = 1000000000L;
     private static final long MOST_PART = 1000000000000L;
-    /** Of twenty accounts together, given 1,000 for 1 by each of thirty clauses, still a long. */
-    private static final long MOST_HELD = 10000000000000L;
 
     private static final int MOST_BYTES = 400;
     private static final int BYTES_FED = 20;
@@ -75,18 +73,24 @@ public final class ShareLife {
     private static final int KINDS = 4;
     private static final int NUMBERS = 64;
 
+    /** Numbers that may pass a long are rows of limbs, the least first. */
+    private static final int LIMB_BITS = 40;
+    private static final long LIMB = (1L << LIMB_BITS) - 1;
+    /** Room for thirty clauses of an option's text, each by up to 1,000, or for sixteen texts of gives one by another. */
+    private static final int LIMBS = 9;
+
     private int state;
     private int latest;
     private int optionPaper;
     private long shownUpper;
     private long shownLower;
     private final Accounts accounts;
-    private final ArrayList<Move> issues;
-    private final ArrayList<Move> trades;
+    private final ArrayList<Entry> issues;
+    private final ArrayList<Entry> trades;
     private final ArrayList<Event> events;
     private final ArrayList<Pick> picks;
-    private final ArrayList<Since> options;
-    private final ArrayList<Since> names;
+    private final ArrayList<Entry> options;
+    private final ArrayList<Entry> names;
     private final int[] rates;
     private final Fraction strikeNow;
     private final Fraction numberNow;
@@ -94,6 +98,8 @@ public final class ShareLife {
     private final Reader reader;
     private final Run run;
     private final Riddle riddle;
+    /** Made when it is first asked for, which hardly any house is. */
+    private Flood flood;
 
     public ShareLife() {
         shownLower = 1;
@@ -103,8 +109,8 @@ public final class ShareLife {
         trades = run.trades;
         events = run.events;
         picks = run.picks;
-        options = new ArrayList<Since>();
-        names = new ArrayList<Since>();
+        options = new ArrayList<Entry>();
+        names = new ArrayList<Entry>();
         rates = new int[PAPERS];
         strikeNow = new Fraction();
         numberNow = new Fraction();
@@ -145,11 +151,10 @@ public final class ShareLife {
         if (refused(first(noSuch, cannotBe, issues.size() >= MOST_ISSUES, known < latest))) {
             return false;
         }
-        Move move = new Move(NONE, account, paper, shares, known);
-        move.dealt = day;
-        move.day = day;
-        move.taxed = worth;
-        issues.add(move);
+        Entry issue = new Entry(paper, day, shares, known);
+        issue.to = account;
+        issue.pennies = worth;
+        issues.add(issue);
         tell(known);
         return true;
     }
@@ -161,10 +166,11 @@ public final class ShareLife {
         if (refused(first(noSuch, cannotBe, trades.size() >= MOST_TRADES, known < latest))) {
             return NONE;
         }
-        Move move = new Move(from, to, paper, shares, known);
-        move.dealt = dealt;
-        move.day = settled;
-        trades.add(move);
+        Entry deal = new Entry(paper, settled, shares, known);
+        deal.from = from;
+        deal.to = to;
+        deal.dealt = dealt;
+        trades.add(deal);
         tell(known);
         return trades.size() - 1;
     }
@@ -344,7 +350,7 @@ public final class ShareLife {
         if (refused(hasTrade(trade) ? 0 : NO_SUCH)) {
             return NONE;
         }
-        Move deal = trades.get(trade);
+        Entry deal = trades.get(trade);
         if (refused(deal.counts(run.asof) ? 0 : UNTOLD)) {
             return NONE;
         }
@@ -360,7 +366,7 @@ public final class ShareLife {
         if (refused(noSuch ? NO_SUCH : 0)) {
             return NONE;
         }
-        Move deal = trades.get(trade);
+        Entry deal = trades.get(trade);
         Event happened = events.get(event);
         boolean apart = !deal.counts(run.asof) || !happened.counts(run.asof)
                 || deal.paper != happened.paper || happened.text.choiceCount > 0;
@@ -368,10 +374,14 @@ public final class ShareLife {
             return NONE;
         }
         run.to(deal.day);
+        if (run.settled[trade] == NONE) {
+            flood = flood == null ? new Flood(accounts) : flood;
+            flood.goOn(run);
+        }
         if (refused(settledStatus(trade))) {
             return NONE;
         }
-        return owingSide(deal, happened) * givenTo(happened.text, deal.shares, paper);
+        return owingSide(deal, happened) * givenTo(happened.text, deal.number, paper);
     }
 
     /** That it failed comes ahead of too much. */
@@ -383,7 +393,7 @@ public final class ShareLife {
     }
 
     /** 1: the seller owes the buyer, -1: the buyer owes the seller, 0: neither. */
-    private static int owingSide(Move deal, Event happened) {
+    private static int owingSide(Entry deal, Event happened) {
         if (deal.dealt < happened.ex) {
             return deal.day > happened.record ? 1 : 0;
         }
@@ -421,8 +431,8 @@ public final class ShareLife {
         if (refused(first(!isPaper(paper), cannotBe, options.size() >= MOST_OPTIONS, known < latest))) {
             return NONE;
         }
-        Since option = new Since(paper, day, number, known);
-        option.strike = strike;
+        Entry option = new Entry(paper, day, number, known);
+        option.pennies = strike;
         options.add(option);
         tell(known);
         return options.size() - 1;
@@ -468,9 +478,9 @@ public final class ShareLife {
      * Takes an option through the events up to a day, past too much as well, since that it ended comes first; what it is
      * then stands in optionPaper, strikeNow, numberNow.
      */
-    private int follow(Since option, int day) {
+    private int follow(Entry option, int day) {
         optionPaper = option.paper;
-        strikeNow.put(option.strike);
+        strikeNow.put(option.pennies);
         numberNow.put(option.number);
         int behind = option.day * NUMBERS - 1;
         for (int k = 0; k < MOST_EVENTS; k++) {
@@ -584,7 +594,7 @@ public final class ShareLife {
         if (refused(first(!isPaper(paper), cannotBe, names.size() >= MOST_NAMES, known < latest))) {
             return false;
         }
-        names.add(new Since(paper, day, name, known));
+        names.add(new Entry(paper, day, name, known));
         tell(known);
         return true;
     }
@@ -620,7 +630,7 @@ public final class ShareLife {
         int name = NONE;
         int began = NONE;
         for (int i = 0; i < names.size(); i++) {
-            Since since = names.get(i);
+            Entry since = names.get(i);
             if (since.paper == paper && since.day <= day && since.day >= began && since.counts(run.asof)) {
                 began = since.day;
                 name = since.number;
@@ -738,22 +748,22 @@ public final class ShareLife {
         }
     }
 
-    /** An issue (from NONE) or a trade; day is when the shares come. */
-    private static final class Move extends Told {
-        final int from;
-        final int to;
+    /** So many of a paper on a day: an issue, a trade, an option; or a name, what the paper is called from then on. */
+    private static final class Entry extends Told {
         final int paper;
-        final int shares;
-        int taxed;
+        final int day;
+        final int number;
+        int from = NONE;
+        int to = NONE;
         int dealt;
-        int day;
+        /** The WORTH of an issue, the STRIKE of an option. */
+        int pennies;
 
-        Move(int from, int to, int paper, int shares, int known) {
+        Entry(int paper, int day, int number, int known) {
             super(known);
-            this.from = from;
-            this.to = to;
             this.paper = paper;
-            this.shares = shares;
+            this.day = day;
+            this.number = number;
         }
     }
 
@@ -787,27 +797,8 @@ public final class ShareLife {
         }
     }
 
-    /** A name of a paper or an option on it, from a day on. */
-    private static final class Since extends Told {
-        final int paper;
-        final int day;
-        final int number;
-        int strike;
-
-        Since(int paper, int day, int number, int known) {
-            super(known);
-            this.paper = paper;
-            this.day = day;
-            this.number = number;
-        }
-    }
-
     /** The tree of accounts, and how what comes to a top account is parted down through it. */
     private static final class Accounts {
-        private static final long SQUARE_FITS = 3000000000L;
-        /** All weights together stay below 2 to this, past too much as well. */
-        private static final int WEIGHT_BITS = 48;
-
         int count;
         final int[] under = new int[MOST_ACCOUNTS];
         final int[] lead = new int[MOST_ACCOUNTS];
@@ -922,9 +913,13 @@ public final class ShareLife {
                 Arrays.fill(share, 0);
                 return;
             }
+            // The product of amount and weight may pass a long; that of the remainder and weight can't.
+            long whole = amount / weights;
+            long remainder = amount % weights;
             long left = amount;
             for (int i = 0; i < parts; i++) {
-                portion(i, amount, weights);
+                share[i] = whole * weight[i] + remainder * weight[i] / weights;
+                rest[i] = remainder * weight[i] % weights;
                 left -= share[i];
             }
             for (int rounds = 0; rounds < parts && left > 0; rounds++) {
@@ -938,28 +933,6 @@ public final class ShareLife {
                 rest[greatest] = NONE;
                 left--;
             }
-        }
-
-        /** The product of amount and weight may pass a long; that of the remainder and weight only past too much. */
-        private void portion(int i, long amount, long weights) {
-            if (weights <= 0) {
-                return;
-            }
-            long remainder = amount % weights;
-            share[i] = amount / weights * weight[i];
-            if (weights <= SQUARE_FITS) {
-                share[i] += remainder * weight[i] / weights;
-                rest[i] = remainder * weight[i] % weights;
-                return;
-            }
-            long quotient = 0;
-            rest[i] = 0;
-            for (int bit = WEIGHT_BITS - 1; bit >= 0; bit--) {
-                long twice = 2 * rest[i] + (remainder >> bit & 1) * weight[i];
-                quotient = 2 * quotient + twice / weights;
-                rest[i] = twice % weights;
-            }
-            share[i] += quotient;
         }
     }
 
@@ -981,6 +954,8 @@ public final class ShareLife {
         /** By row, the shares of the top account that the clauses work for; of the row OUTSIDE its TOTAL. */
         final long[] holding = new long[ROWS];
         final boolean[] live = new boolean[MOST_CLAUSES];
+        /** The rule for fractions that is in force at it. */
+        final int[] rule = new int[MOST_CLAUSES];
         final long[] shares = new long[MOST_CLAUSES];
         final long[] pennies = new long[MOST_CLAUSES];
 
@@ -998,7 +973,7 @@ public final class ShareLife {
         }
 
         void work() {
-            int rule = DOWN;
+            int now = DOWN;
             int price = 0;
             for (int i = 0; i < size; i++) {
                 shares[i] = 0;
@@ -1008,11 +983,12 @@ public final class ShareLife {
                     continue;
                 }
                 long whole = holding[row[i]];
+                rule[i] = now;
                 if (kind[i] == FRACTION) {
-                    rule = m[i];
+                    now = m[i];
                     price = n[i];
                 } else if (kind[i] == GIVE) {
-                    give(i, whole, rule, price);
+                    give(i, whole, price);
                 } else if (kind[i] == TAKE) {
                     shares[i] = ratio(whole, i);
                 } else if (kind[i] == COIN) {
@@ -1041,17 +1017,22 @@ public final class ShareLife {
             return n[i] > 0 ? whole * m[i] / n[i] : 0;
         }
 
-        private void give(int i, long whole, int rule, int price) {
+        private void give(int i, long whole, int price) {
             if (n[i] <= 0) {
                 return;
             }
             long rest = whole * m[i] % n[i];
             shares[i] = whole * m[i] / n[i];
-            if (rule == UP && rest > 0 || rule == NEAR && 2 * rest >= n[i]) {
+            if (isOneMore(i, rest)) {
                 shares[i]++;
-            } else if (rule == IN_COIN) {
+            } else if (rule[i] == IN_COIN) {
                 pennies[i] = price * rest / n[i];
             }
+        }
+
+        /** Whether a give has a share more for the rest that its division leaves. */
+        boolean isOneMore(int i, long rest) {
+            return rule[i] == UP && rest > 0 || rule[i] == NEAR && 2 * rest >= n[i];
         }
 
         /** All takes of a row together, at most what is there. */
@@ -1555,8 +1536,8 @@ public final class ShareLife {
         final int[] settled = new int[MOST_TRADES];
         final long[][] kept = new long[MOST_EVENTS][MOST_CHOICES * MOST_ACCOUNTS];
         final Accounts accounts = new Accounts();
-        final ArrayList<Move> issues = new ArrayList<Move>();
-        final ArrayList<Move> trades = new ArrayList<Move>();
+        final ArrayList<Entry> issues = new ArrayList<Entry>();
+        final ArrayList<Entry> trades = new ArrayList<Entry>();
         final ArrayList<Event> events = new ArrayList<Event>();
         final ArrayList<Pick> picks = new ArrayList<Pick>();
         private final int[] order = new int[MOST_ISSUES + MOST_TRADES + MOST_EVENTS];
@@ -1566,12 +1547,12 @@ public final class ShareLife {
         private final long[] quota = new long[MOST_ACCOUNTS];
         private final int[] firstGiven = new int[MOST_ACCOUNTS];
 
-        /** Brings the state to the end of a day, past too much as well: a trade behind it is done or has failed. */
+        /** Brings the state to the end of a day, or to the event that made too much. */
         void to(int day) {
             if (stale || next > 0 && dayAt(next - 1) > day) {
                 restart();
             }
-            for (; next < count && dayAt(next) <= day; next++) {
+            for (; next < count && !over && dayAt(next) <= day; next++) {
                 int kind = order[next] / NUMBERS % KINDS;
                 int number = order[next] % NUMBERS;
                 if (kind == ISSUING && number < issues.size()) {
@@ -1625,22 +1606,22 @@ public final class ShareLife {
             count++;
         }
 
-        private void runIssue(Move issue) {
-            held[issue.paper][issue.to] += issue.shares;
-            taxed[issue.paper][issue.to] += issue.taxed;
+        private void runIssue(Entry issue) {
+            held[issue.paper][issue.to] += issue.number;
+            taxed[issue.paper][issue.to] += issue.pennies;
         }
 
-        private void runTrade(Move trade, int number) {
+        private void runTrade(Entry trade, int number) {
             long[] shares = held[trade.paper];
             long[] worths = taxed[trade.paper];
             long has = shares[trade.from];
-            if (has < trade.shares || has <= 0) {
+            if (has < trade.number || has <= 0) {
                 settled[number] = 0;
                 return;
             }
-            long goes = worths[trade.from] * trade.shares / has;
-            shares[trade.from] -= trade.shares;
-            shares[trade.to] += trade.shares;
+            long goes = worths[trade.from] * trade.number / has;
+            shares[trade.from] -= trade.number;
+            shares[trade.to] += trade.number;
             worths[trade.from] -= goes;
             worths[trade.to] += goes;
             settled[number] = 1;
@@ -1768,9 +1749,7 @@ public final class ShareLife {
                 if (text.live[i] && text.kind[i] == WORTH) {
                     moveWorth(happened.paper, text, i, head);
                 }
-                if (!over) {
-                    hand(pennies, text.pennies[i], head, text.row[i]);
-                }
+                hand(pennies, text.pennies[i], head, text.row[i]);
             }
             for (int row = 0; row < ROWS; row++) {
                 hand(held[happened.paper], -text.taken(row), head, row);
@@ -1832,16 +1811,343 @@ public final class ShareLife {
                     over = over || accounts.owed[a] > MOST_TOTAL;
                 }
             }
-            if (over) {
-                bound();
+        }
+    }
+
+    /**
+     * Shares behind the event that made too much, however many they are: that a trade failed there is told ahead of too
+     * much. It does with limbs, and for shares alone, what Run does.
+     */
+    private static final class Flood {
+        private final Accounts accounts;
+        /** A number for each paper and account. */
+        private final long[][] held = new long[PAPERS * MOST_ACCOUNTS][LIMBS];
+        /** As in Accounts, a number for each row and account. */
+        private final long[][] mine = new long[ROWS * MOST_ACCOUNTS][LIMBS];
+        private final long[][] all = new long[ROWS * MOST_ACCOUNTS][LIMBS];
+        private final long[][] owed = new long[MOST_ACCOUNTS][LIMBS];
+        private final long[][] got = new long[MOST_ACCOUNTS][LIMBS];
+        private final long[][] cut = new long[MOST_ACCOUNTS][LIMBS];
+        private final long[] quota = new long[MOST_ACCOUNTS];
+        private final int[] who = new int[MOST_ACCOUNTS + 1];
+        private final long[][] weight = new long[MOST_ACCOUNTS + 1][LIMBS];
+        private final long[][] share = new long[MOST_ACCOUNTS + 1][LIMBS];
+        private final long[][] rest = new long[MOST_ACCOUNTS + 1][LIMBS];
+        private final long[][] taken = new long[ROWS][LIMBS];
+        private final long[] amount = new long[LIMBS];
+        private final long[] sum = new long[LIMBS];
+        private final long[] left = new long[LIMBS];
+        private final long[] one = new long[LIMBS];
+
+        Flood(Accounts accounts) {
+            this.accounts = accounts;
+            put(one, 1);
+        }
+
+        static void put(long[] row, long number) {
+            Arrays.fill(row, 0);
+            row[0] = number & LIMB;
+            row[1] = number >>> LIMB_BITS;
+        }
+
+        private static void copy(long[] from, long[] into) {
+            System.arraycopy(from, 0, into, 0, LIMBS);
+        }
+
+        /** Both rows may be the same one, as each limb is read ahead of being written. */
+        static void addTimes(long[] row, long[] other, long times) {
+            long carry = 0;
+            for (int i = 0; i < LIMBS; i++) {
+                long limb = row[i] + other[i] * times + carry;
+                row[i] = limb & LIMB;
+                carry = limb >>> LIMB_BITS;
             }
         }
 
-        /** Past too much no number is told, so shares far above any trade are cut to keep all products in a long. */
-        private void bound() {
+        /** Of a row that is not less than the other. */
+        private static void subtract(long[] row, long[] other) {
+            long borrow = 0;
+            for (int i = 0; i < LIMBS; i++) {
+                long limb = row[i] - other[i] - borrow;
+                row[i] = limb & LIMB;
+                borrow = limb < 0 ? 1 : 0;
+            }
+        }
+
+        /** Answers what is left over; the divisor is small. */
+        private static long divide(long[] row, long divisor) {
+            long over = 0;
+            for (int i = LIMBS - 1; i >= 0 && divisor > 0; i--) {
+                long part = (over << LIMB_BITS) + row[i];
+                row[i] = part / divisor;
+                over = part % divisor;
+            }
+            return over;
+        }
+
+        static boolean isLess(long[] row, long[] other) {
+            int at = LIMBS - 1;
+            while (at > 0 && row[at] == other[at]) {
+                at--;
+            }
+            return row[at] < other[at];
+        }
+
+        /** As a long; one that is above all numbers of a text is cut, as it is only set against these. */
+        private static long cutToLong(long[] row) {
+            boolean fits = row[0] < MOST_TOTAL;
+            for (int i = 1; i < LIMBS; i++) {
+                fits = fits && row[i] == 0;
+            }
+            return fits ? row[0] : MOST_TOTAL;
+        }
+
+        /** From where a run stopped through all that is left of it; its trades are settled then. */
+        void goOn(Run run) {
             for (int paper = 0; paper < PAPERS; paper++) {
+                for (int a = 0; a < MOST_ACCOUNTS; a++) {
+                    put(held[paper * MOST_ACCOUNTS + a], run.held[paper][a]);
+                }
+            }
+            for (int at = run.next; at < run.count; at++) {
+                int kind = run.order[at] / NUMBERS % KINDS;
+                int number = run.order[at] % NUMBERS;
+                if (kind == ISSUING && number < run.issues.size()) {
+                    receive(run.issues.get(number));
+                } else if (kind == TRADING && number < run.trades.size()) {
+                    run.settled[number] = settle(run.trades.get(number));
+                } else if (kind == HAPPENING && number < run.events.size()) {
+                    happen(run, number);
+                }
+            }
+        }
+
+        private void receive(Entry issue) {
+            put(amount, issue.number);
+            addTimes(held[issue.paper * MOST_ACCOUNTS + issue.to], amount, 1);
+        }
+
+        private int settle(Entry trade) {
+            long[] from = held[trade.paper * MOST_ACCOUNTS + trade.from];
+            put(amount, trade.number);
+            if (isLess(from, amount)) {
+                return 0;
+            }
+            subtract(from, amount);
+            addTimes(held[trade.paper * MOST_ACCOUNTS + trade.to], amount, 1);
+            return 1;
+        }
+
+        private void happen(Run run, int number) {
+            Event happened = run.events.get(number);
+            for (int i = 0; i < ROWS * MOST_ACCOUNTS; i++) {
+                put(mine[i], 0);
+            }
+            for (int a = 0; a < accounts.count; a++) {
+                long[] shares = held[happened.paper * MOST_ACCOUNTS + a];
+                copy(shares, mine[OUTSIDE * MOST_ACCOUNTS + a]);
+                int choice = run.choiceOf(number, a);
+                if (choice >= 0 && choice < MOST_CHOICES) {
+                    copy(shares, mine[choice * MOST_ACCOUNTS + a]);
+                }
+            }
+            addUpRows();
+            cutBack(happened.text);
+            addUpRows();
+            for (int a = 0; a < accounts.count; a++) {
+                if (accounts.top[a] == a) {
+                    serve(happened, a);
+                }
+            }
+        }
+
+        private void addUpRows() {
+            for (int row = 0; row < ROWS; row++) {
+                int first = row * MOST_ACCOUNTS;
                 for (int a = 0; a < accounts.count; a++) {
-                    held[paper][a] = Math.min(held[paper][a], MOST_HELD);
+                    copy(mine[first + a], all[first + a]);
+                }
+                for (int a = accounts.count - 1; a > 0; a--) {
+                    if (accounts.under[a] != NONE) {
+                        addTimes(all[first + accounts.under[a]], all[first + a], 1);
+                    }
+                }
+            }
+        }
+
+        private void cutBack(Text text) {
+            for (int a = 0; a < accounts.count; a++) {
+                put(cut[a], 0);
+            }
+            for (int row = 0; row < text.choiceCount; row++) {
+                if (text.most[row] == NONE || !allotTops(text, row)) {
+                    continue;
+                }
+                for (int a = 0; a < accounts.count; a++) {
+                    if (accounts.top[a] == a) {
+                        put(amount, quota[a]);
+                        deal(amount, a, row);
+                    }
+                }
+                for (int a = 0; a < accounts.count; a++) {
+                    long[] own = mine[row * MOST_ACCOUNTS + a];
+                    if (row != text.fallback) {
+                        addTimes(cut[a], own, 1);
+                        subtract(cut[a], got[a]);
+                    }
+                    copy(got[a], own);
+                }
+            }
+            for (int a = 0; a < accounts.count && text.fallback != NONE; a++) {
+                addTimes(mine[text.fallback * MOST_ACCOUNTS + a], cut[a], 1);
+            }
+        }
+
+        private boolean allotTops(Text text, int row) {
+            long most = text.most[row];
+            put(sum, 0);
+            for (int a = 0; a < accounts.count; a++) {
+                put(weight[a], 0);
+                quota[a] = 0;
+                if (accounts.top[a] == a) {
+                    copy(all[row * MOST_ACCOUNTS + a], weight[a]);
+                    addTimes(sum, weight[a], 1);
+                }
+            }
+            if (cutToLong(sum) <= most) {
+                return false;
+            }
+            for (int a = 0; a < accounts.count; a++) {
+                long offered = cutToLong(weight[a]);
+                if (offered <= text.small[row] && offered <= most) {
+                    put(weight[a], 0);
+                    quota[a] = offered;
+                    most -= offered;
+                }
+            }
+            put(amount, most);
+            apportion(amount, accounts.count);
+            for (int a = 0; a < accounts.count; a++) {
+                quota[a] += cutToLong(share[a]);
+            }
+            return true;
+        }
+
+        /** Text.work tells by cut holdings which clauses are done; how much they give and take is worked out here. */
+        private void serve(Event happened, int head) {
+            Text text = happened.text;
+            for (int row = 0; row < ROWS; row++) {
+                text.holding[row] = cutToLong(all[row * MOST_ACCOUNTS + head]);
+                put(taken[row], 0);
+            }
+            text.work();
+            for (int i = 0; i < text.size; i++) {
+                if (text.live[i] && text.kind[i] == TAKE) {
+                    multiply(text, i, head);
+                    addTimes(taken[text.row[i]], amount, 1);
+                } else if (text.live[i] && text.kind[i] == GIVE) {
+                    if (text.isOneMore(i, multiply(text, i, head))) {
+                        addTimes(amount, one, 1);
+                    }
+                    deal(amount, head, text.row[i]);
+                    come(text.q[i], head);
+                }
+            }
+            for (int row = 0; row < ROWS; row++) {
+                long[] most = all[row * MOST_ACCOUNTS + head];
+                copy(isLess(most, taken[row]) ? most : taken[row], amount);
+                deal(amount, head, row);
+                go(happened.paper, head);
+            }
+        }
+
+        /** The amount is m by n of what a top account has in a clause's row; answers what is left over. */
+        private long multiply(Text text, int i, int head) {
+            put(amount, 0);
+            addTimes(amount, all[text.row[i] * MOST_ACCOUNTS + head], text.m[i]);
+            return divide(amount, text.n[i]);
+        }
+
+        private void come(int paper, int head) {
+            for (int a = head; a < accounts.count; a++) {
+                if (accounts.top[a] == head) {
+                    addTimes(held[paper * MOST_ACCOUNTS + a], got[a], 1);
+                }
+            }
+        }
+
+        private void go(int paper, int head) {
+            for (int a = head; a < accounts.count; a++) {
+                if (accounts.top[a] == head) {
+                    subtract(held[paper * MOST_ACCOUNTS + a], got[a]);
+                }
+            }
+        }
+
+        private void deal(long[] comes, int head, int row) {
+            copy(comes, owed[head]);
+            for (int a = head; a < accounts.count; a++) {
+                if (accounts.top[a] != head) {
+                    continue;
+                }
+                copy(mine[row * MOST_ACCOUNTS + a], weight[0]);
+                int parts = 1;
+                int kid = accounts.firstKid[a];
+                for (int steps = 0; steps < MOST_ACCOUNTS && kid != NONE; steps++) {
+                    who[parts] = kid;
+                    copy(all[row * MOST_ACCOUNTS + kid], weight[parts]);
+                    parts++;
+                    kid = accounts.nextKid[kid];
+                }
+                apportion(owed[a], parts);
+                copy(share[0], got[a]);
+                for (int i = 1; i < parts; i++) {
+                    copy(share[i], owed[who[i]]);
+                }
+            }
+        }
+
+        private void apportion(long[] comes, int parts) {
+            put(sum, 0);
+            for (int i = 0; i < parts; i++) {
+                addTimes(sum, weight[i], 1);
+            }
+            copy(comes, left);
+            for (int i = 0; i < parts; i++) {
+                portion(comes, i);
+                subtract(left, share[i]);
+            }
+            for (int rounds = 0; rounds < parts && left[0] > 0; rounds++) {
+                int greatest = 0;
+                for (int i = 1; i < parts; i++) {
+                    if (isLess(rest[greatest], rest[i])) {
+                        greatest = i;
+                    }
+                }
+                addTimes(share[greatest], one, 1);
+                put(rest[greatest], 0);
+                left[0]--;
+            }
+        }
+
+        /** What comes times weight by the sum of weights, bit by bit: at each the rest is below three times that sum. */
+        private void portion(long[] comes, int i) {
+            put(share[i], 0);
+            put(rest[i], 0);
+            if (cutToLong(weight[i]) == 0) {
+                return;
+            }
+            int limbs = LIMBS;
+            while (limbs > 0 && comes[limbs - 1] == 0) {
+                limbs--;
+            }
+            for (int bit = limbs * LIMB_BITS - 1; bit >= 0; bit--) {
+                addTimes(share[i], share[i], 1);
+                addTimes(rest[i], rest[i], 1);
+                addTimes(rest[i], weight[i], comes[bit / LIMB_BITS] >> bit % LIMB_BITS & 1);
+                for (int twice = 0; twice < 2 && !isLess(rest[i], sum); twice++) {
+                    subtract(rest[i], sum);
+                    addTimes(share[i], one, 1);
                 }
             }
         }
@@ -1850,10 +2156,6 @@ public final class ShareLife {
     /** Held without a common divisor, the lower number above 0; over once a part was too great. */
     private static final class Fraction {
         private static final int MOST_STEPS = 100;
-        private static final int LIMB_BITS = 40;
-        private static final long LIMB = (1L << LIMB_BITS) - 1;
-        /** What thirty clauses add up to, each with numbers up to 1,000, has fewer than 9 * 40 bits. */
-        private static final int LIMBS = 9;
 
         long above;
         long below = 1;
@@ -1861,17 +2163,15 @@ public final class ShareLife {
         /** The sum once more, however great its parts: what came less what went, both by one lower number. */
         private final long[] came = new long[LIMBS];
         private final long[] went = new long[LIMBS];
-        private final long[] wideBelow = new long[LIMBS];
+        private final long[] by = new long[LIMBS];
 
         void put(long whole) {
             above = whole;
             below = 1;
             over = false;
-            Arrays.fill(came, 0);
-            Arrays.fill(went, 0);
-            Arrays.fill(wideBelow, 0);
-            came[0] = whole;
-            wideBelow[0] = 1;
+            Flood.put(came, whole);
+            Flood.put(went, 0);
+            Flood.put(by, 1);
         }
 
         /** By m / n, both above 0 and not above MOST_PART; divided first so that no product passes a long. */
@@ -1900,10 +2200,10 @@ public final class ShareLife {
             if (n <= 0) {
                 return;
             }
-            addTimes(came, came, n - 1);
-            addTimes(went, went, n - 1);
-            addTimes(m < 0 ? went : came, wideBelow, Math.abs(m));
-            addTimes(wideBelow, wideBelow, n - 1);
+            Flood.addTimes(came, came, n - 1);
+            Flood.addTimes(went, went, n - 1);
+            Flood.addTimes(m < 0 ? went : came, by, Math.abs(m));
+            Flood.addTimes(by, by, n - 1);
             if (over) {
                 return;
             }
@@ -1917,21 +2217,7 @@ public final class ShareLife {
 
         /** Whether it is above 0, which can be told past too much. */
         boolean isLeft() {
-            int at = LIMBS - 1;
-            while (at > 0 && came[at] == went[at]) {
-                at--;
-            }
-            return came[at] > went[at];
-        }
-
-        /** Both rows may be the same one, as each limb is read ahead of being written. */
-        private static void addTimes(long[] row, long[] other, long by) {
-            long carry = 0;
-            for (int i = 0; i < LIMBS; i++) {
-                long sum = row[i] + other[i] * by + carry;
-                row[i] = sum & LIMB;
-                carry = sum >>> LIMB_BITS;
-            }
+            return Flood.isLess(went, came);
         }
 
         /** Never below 1, so that it may divide. */

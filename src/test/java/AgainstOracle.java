@@ -292,31 +292,49 @@ public final class AgainstOracle {
         return BigInteger.valueOf(n);
     }
 
+    static BigInteger[] none(int n) {
+        BigInteger[] out = new BigInteger[n];
+        Arrays.fill(out, BigInteger.ZERO);
+        return out;
+    }
+
+    static BigInteger[][] none(int m, int n) {
+        BigInteger[][] out = new BigInteger[m][];
+        for (int i = 0; i < m; i++) {
+            out[i] = none(n);
+        }
+        return out;
+    }
+
     /** What the second reading holds at the end of a day. */
     static class World {
-        long[][] own = new long[20][20];
+        BigInteger[][] own = none(20, 20);
         long[][] worth = new long[20][20];
-        long[] coin = new long[20];
+        BigInteger[] coin = none(20);
         long[] realized = new long[20];
         Map<Integer, Integer> done = new HashMap<>();
-        Map<Integer, long[][]> kept = new HashMap<>();
+        Map<Integer, BigInteger[][]> kept = new HashMap<>();
         boolean over;
-        /** Past this the second reading does not follow what became. */
-        boolean lost;
+    }
+
+    /** What a clause brings a top account: shares of a paper, pennies, or so much of its worth to a paper. */
+    static class Step {
+        String what;
+        int paper;
+        BigInteger amount;
+        int row;
     }
 
     /** What one top account gets from a script. */
     static class Yield {
-        final long total;
-        final long[] t;
+        final BigInteger total;
+        final BigInteger[] t;
         String rule = "down";
         long price;
-        final List<long[]> gives = new ArrayList<>();   // paper, amount, row
-        final List<long[]> coins = new ArrayList<>();   // amount, row
-        final long[] takes = new long[4];
-        final List<Object[]> steps = new ArrayList<>();
+        final BigInteger[] takes = none(4);
+        final List<Step> steps = new ArrayList<>();
 
-        Yield(long total, long[] t) {
+        Yield(BigInteger total, BigInteger[] t) {
             this.total = total;
             this.t = t;
         }
@@ -327,39 +345,51 @@ public final class AgainstOracle {
             }
         }
 
+        void step(String what, int paper, BigInteger amount, int row) {
+            Step step = new Step();
+            step.what = what;
+            step.paper = paper;
+            step.amount = amount;
+            step.row = row;
+            steps.add(step);
+        }
+
+        BigInteger sum(String what, int paper) {
+            BigInteger sum = BigInteger.ZERO;
+            for (Step step : steps) {
+                if (step.what.equals(what) && step.paper == paper) {
+                    sum = sum.add(step.amount);
+                }
+            }
+            return sum;
+        }
+
         void one(Node node, int row) {
-            long whole = row == NONE ? total : t[row];
+            BigInteger whole = row == NONE ? total : t[row];
             int r = row == NONE ? 3 : row;
-            long m = node.num[0];
             long n = node.num[2];
+            BigInteger[] by = whole.multiply(big(node.num[0])).divideAndRemainder(big(Math.max(n, 1)));
             if (node.word.equals("give")) {
-                long amount = whole * m / n;
-                long rest = whole * m - amount * n;
-                if (rule.equals("up") && rest > 0) {
-                    amount++;
-                }
-                if (rule.equals("near") && rest * 2 >= n) {
-                    amount++;
-                }
-                gives.add(new long[] {node.num[1], amount, r});
-                steps.add(new Object[] {"give", node.num[1], amount, r});
+                long rest = by[1].longValueExact();
+                boolean more = rule.equals("up") && rest > 0 || rule.equals("near") && rest * 2 >= n;
+                step("give", node.num[1], more ? by[0].add(BigInteger.ONE) : by[0], r);
                 if (rule.equals("coin")) {
-                    coins.add(new long[] {price * rest / n, r});
-                    steps.add(new Object[] {"coin", 0, price * rest / n, r});
+                    step("coin", 0, big(price * rest / n), r);
                 }
             } else if (node.word.equals("take")) {
-                takes[r] = Math.min(takes[r] + whole * m / n, whole);
-            } else if (node.word.equals("coin") || node.word.equals("pay")) {
-                long amount = whole * m / n * (node.word.equals("pay") ? -1 : 1);
-                coins.add(new long[] {amount, r});
-                steps.add(new Object[] {"coin", 0, amount, r});
+                takes[r] = takes[r].add(by[0]).min(whole);
+            } else if (node.word.equals("coin")) {
+                step("coin", 0, by[0], r);
+            } else if (node.word.equals("pay")) {
+                step("coin", 0, by[0].negate(), r);
             } else if (node.word.equals("worth")) {
-                steps.add(new Object[] {"worth", node.num[1], m, r});
+                step("worth", node.num[1], big(node.num[0]), r);
             } else if (node.word.equals("fraction")) {
                 rule = node.rule;
-                price = m;
+                price = node.num[0];
             } else if (node.word.equals("when")) {
-                go((node.rule.equals("<") ? total < m : total > m) ? node.body : node.other, row);
+                int side = total.compareTo(big(node.num[0]));
+                go((node.rule.equals("<") ? side < 0 : side > 0) ? node.body : node.other, row);
             }
         }
 
@@ -367,7 +397,7 @@ public final class AgainstOracle {
             for (Node node : script.nodes) {
                 if (node.word.equals("choice")) {
                     int row = script.choices.indexOf(node);
-                    if (t[row] > 0) {
+                    if (t[row].signum() > 0) {
                         go(node.body, row);
                     }
                 } else {
@@ -397,8 +427,6 @@ public final class AgainstOracle {
         BigInteger low = BigInteger.ONE;
         List<Integer> because;
         int rivals;
-        /** Of the latest due(): whether the trade was done lies past what the second reading follows. */
-        boolean unsure;
 
         static boolean day(int d) {
             return d >= 0 && d <= 40000;
@@ -560,57 +588,57 @@ public final class AgainstOracle {
             return accounts.get(a)[0] == NONE ? a : topOf(accounts.get(a)[0]);
         }
 
-        long sum(long[] own, int a) {
-            long s = own[a];
+        BigInteger sum(BigInteger[] own, int a) {
+            BigInteger s = own[a];
             for (int b = 0; b < accounts.size(); b++) {
                 if (accounts.get(b)[0] == a) {
-                    s += sum(own, b);
+                    s = s.add(sum(own, b));
                 }
             }
             return s;
         }
 
         /** Largest remainders by sorting. */
-        static long[] rata(long amount, long[] weights) {
+        static BigInteger[] rata(BigInteger amount, BigInteger[] weights) {
             BigInteger all = BigInteger.ZERO;
-            for (long w : weights) {
-                all = all.add(big(w));
+            for (BigInteger w : weights) {
+                all = all.add(w);
             }
-            long[] out = new long[weights.length];
+            BigInteger[] out = none(weights.length);
             if (all.signum() == 0) {
                 return out;
             }
             BigInteger[] rests = new BigInteger[weights.length];
             List<Integer> by = new ArrayList<>();
-            long left = amount;
+            BigInteger left = amount;
             for (int i = 0; i < weights.length; i++) {
-                BigInteger[] qr = big(amount).multiply(big(weights[i])).divideAndRemainder(all);
-                out[i] = qr[0].longValueExact();
+                BigInteger[] qr = amount.multiply(weights[i]).divideAndRemainder(all);
+                out[i] = qr[0];
                 rests[i] = qr[1];
-                left -= out[i];
+                left = left.subtract(out[i]);
                 by.add(i);
             }
             by.sort(Comparator.comparing((Integer i) -> rests[i]).reversed());
-            for (int i = 0; i < left; i++) {
-                out[by.get(i)]++;
+            for (int i = 0; i < left.intValueExact(); i++) {
+                out[by.get(i)] = out[by.get(i)].add(BigInteger.ONE);
             }
             return out;
         }
 
-        void part(long amount, int a, long[] own, long[] into) {
+        void part(BigInteger amount, int a, BigInteger[] own, BigInteger[] into) {
             List<Integer> kids = new ArrayList<>();
             for (int b = 0; b < accounts.size(); b++) {
                 if (accounts.get(b)[0] == a) {
                     kids.add(b);
                 }
             }
-            long[] weights = new long[kids.size() + 1];
+            BigInteger[] weights = new BigInteger[kids.size() + 1];
             weights[0] = own[a];
             for (int i = 0; i < kids.size(); i++) {
                 weights[i + 1] = sum(own, kids.get(i));
             }
-            long[] parts = rata(amount, weights);
-            into[a] += parts[0];
+            BigInteger[] parts = rata(amount, weights);
+            into[a] = into[a].add(parts[0]);
             for (int i = 0; i < kids.size(); i++) {
                 part(parts[i + 1], kids.get(i), own, into);
             }
@@ -645,6 +673,7 @@ public final class AgainstOracle {
             return best == null ? events.get(event).script.standard() : best.choice;
         }
 
+        /** All up to a day, too much or not. */
         World world(int day) {
             World w = new World();
             List<Happening> list = new ArrayList<>();
@@ -655,112 +684,112 @@ public final class AgainstOracle {
             list.sort(Comparator.<Happening>comparingInt(h -> h.day).thenComparingInt(h -> h.rank).thenComparingInt(h -> h.number));
             for (Happening h : list) {
                 if (h.rank == 0) {
-                    w.own[h.paper][h.to] += h.shares;
+                    w.own[h.paper][h.to] = w.own[h.paper][h.to].add(big(h.shares));
                     w.worth[h.paper][h.to] += h.worth;
                 } else if (h.rank == 1) {
                     settle(w, h);
                 } else {
                     happen(w, h);
-                    if (w.lost) {
-                        return w;
-                    }
                 }
             }
             return w;
         }
 
         void settle(World w, Happening h) {
-            long has = w.own[h.paper][h.from];
-            w.done.put(h.number, has >= h.shares ? 1 : 0);
-            if (has >= h.shares) {
-                long goes = big(w.worth[h.paper][h.from]).multiply(big(h.shares)).divide(big(has)).longValueExact();
-                w.own[h.paper][h.from] -= h.shares;
-                w.own[h.paper][h.to] += h.shares;
+            BigInteger has = w.own[h.paper][h.from];
+            BigInteger shares = big(h.shares);
+            boolean enough = has.compareTo(shares) >= 0;
+            w.done.put(h.number, enough ? 1 : 0);
+            if (enough) {
+                long goes = big(w.worth[h.paper][h.from]).multiply(shares).divide(has).longValueExact();
+                w.own[h.paper][h.from] = has.subtract(shares);
+                w.own[h.paper][h.to] = w.own[h.paper][h.to].add(shares);
                 w.worth[h.paper][h.from] -= goes;
                 w.worth[h.paper][h.to] += goes;
             }
         }
 
-        long[][] rows(World w, Happening h) {
-            long[][] mine = new long[4][20];
+        BigInteger[][] rows(World w, Happening h) {
+            BigInteger[][] mine = none(4, 20);
             for (int a = 0; a < accounts.size(); a++) {
-                long has = w.own[h.paper][a];
+                BigInteger has = w.own[h.paper][a];
                 mine[3][a] = has;
                 int c = pick(h.number, a);
                 if (c != NONE) {
                     mine[c][a] = has;
                 }
             }
-            long[][] out = new long[][] {mine[0].clone(), mine[1].clone(), mine[2].clone(), mine[3].clone()};
+            BigInteger[][] out = {mine[0].clone(), mine[1].clone(), mine[2].clone(), mine[3].clone()};
             for (int c = 0; c < h.script.choices.size(); c++) {
                 cut(h, c, mine[c], out);
             }
             return out;
         }
 
-        void cut(Happening h, int c, long[] own, long[][] out) {
+        void cut(Happening h, int c, BigInteger[] own, BigInteger[][] out) {
             Node most = null;
             for (Node node : h.script.choices.get(c).body) {
                 if (node.word.equals("most")) {
                     most = node;
                 }
             }
-            long all = 0;
-            for (long t : own) {
-                all += t;
+            BigInteger all = BigInteger.ZERO;
+            for (BigInteger t : own) {
+                all = all.add(t);
             }
-            if (most == null || all <= most.num[0]) {
+            if (most == null || all.compareTo(big(most.num[0])) <= 0) {
                 return;
             }
-            long left = most.num[0];
-            long[] weights = new long[accounts.size()];
-            long[] gets = new long[accounts.size()];
+            BigInteger left = big(most.num[0]);
+            BigInteger[] weights = none(accounts.size());
+            BigInteger[] gets = none(accounts.size());
             for (int a = 0; a < accounts.size(); a++) {
                 if (accounts.get(a)[0] != NONE) {
                     continue;
                 }
-                long t = sum(own, a);
-                if (most.rule.equals("small") && t <= most.num[1] && t <= left) {
+                BigInteger t = sum(own, a);
+                if (most.rule.equals("small") && t.compareTo(big(most.num[1])) <= 0 && t.compareTo(left) <= 0) {
                     gets[a] = t;
-                    left -= t;
+                    left = left.subtract(t);
                 } else {
                     weights[a] = t;
                 }
             }
-            long[] more = rata(left, weights);
-            long[] stay = new long[20];
+            BigInteger[] more = rata(left, weights);
+            BigInteger[] stay = none(20);
             for (int a = 0; a < accounts.size(); a++) {
                 if (accounts.get(a)[0] == NONE) {
-                    part(gets[a] + more[a], a, own, stay);
+                    part(gets[a].add(more[a]), a, own, stay);
                 }
             }
             int standard = h.script.standard();
             for (int a = 0; a < accounts.size(); a++) {
-                out[c][a] -= own[a] - stay[a];
+                BigInteger goes = own[a].subtract(stay[a]);
+                out[c][a] = out[c][a].subtract(goes);
                 if (standard != NONE && standard != c) {
-                    out[standard][a] += own[a] - stay[a];
+                    out[standard][a] = out[standard][a].add(goes);
                 }
             }
         }
 
         void happen(World w, Happening h) {
-            long[][] mine = rows(w, h);
+            BigInteger[][] mine = rows(w, h);
             w.kept.put(h.number, mine);
             int[] first = new int[20];
             Arrays.fill(first, NONE);
-            long[] gone = new long[20];
-            long[][] come = new long[20][20];
+            BigInteger[] gone = none(20);
+            BigInteger[][] come = none(20, 20);
             for (int top = 0; top < accounts.size(); top++) {
                 if (accounts.get(top)[0] != NONE) {
                     continue;
                 }
-                long[] t = new long[4];
+                BigInteger[] t = new BigInteger[4];
                 for (int r = 0; r < 4; r++) {
                     t[r] = sum(mine[r], top);
                 }
                 Yield y = new Yield(t[3], t);
                 y.all(h.script);
-                for (Object[] step : y.steps) {
+                for (Step step : y.steps) {
                     apply(w, h, step, top, mine, first, come);
                 }
                 for (int r = 0; r < 4; r++) {
@@ -770,10 +799,10 @@ public final class AgainstOracle {
             }
             for (int a = 0; a < accounts.size(); a++) {
                 for (int p = 0; p < 20; p++) {
-                    w.own[p][a] += come[p][a];
+                    w.own[p][a] = w.own[p][a].add(come[p][a]);
                 }
-                w.own[h.paper][a] -= gone[a];
-                if (w.own[h.paper][a] == 0) {
+                w.own[h.paper][a] = w.own[h.paper][a].subtract(gone[a]);
+                if (w.own[h.paper][a].signum() == 0) {
                     if (first[a] == NONE) {
                         w.realized[a] += w.worth[h.paper][a];
                     } else {
@@ -784,39 +813,31 @@ public final class AgainstOracle {
             }
             for (int p = 0; p < 20; p++) {
                 for (int a = 0; a < accounts.size(); a++) {
-                    w.over |= sum(w.own[p], a) > 1000000000L;
-                    w.lost |= sum(w.own[p], a) > 10000000000000L;
+                    w.over |= sum(w.own[p], a).compareTo(big(1000000000L)) > 0;
                 }
             }
         }
 
-        void apply(World w, Happening h, Object[] step, int top, long[][] mine, int[] first, long[][] come) {
-            String what = (String) step[0];
-            int paper = (Integer) step[1];
-            long amount = (Long) step[2];
-            int row = (Integer) step[3];
-            long[] parts = new long[20];
-            if (what.equals("coin") && w.over) {
-                return;
-            }
-            if (!what.equals("worth")) {
-                part(Math.abs(amount), top, mine[row], parts);
+        void apply(World w, Happening h, Step step, int top, BigInteger[][] mine, int[] first, BigInteger[][] come) {
+            BigInteger[] parts = none(20);
+            if (!step.what.equals("worth")) {
+                part(step.amount.abs(), top, mine[step.row], parts);
             }
             for (int a = 0; a < accounts.size(); a++) {
                 if (topOf(a) != top) {
                     continue;
                 }
-                if (what.equals("give")) {
-                    come[paper][a] += parts[a];
-                    if (parts[a] > 0 && first[a] == NONE) {
-                        first[a] = paper;
+                if (step.what.equals("give")) {
+                    come[step.paper][a] = come[step.paper][a].add(parts[a]);
+                    if (parts[a].signum() > 0 && first[a] == NONE) {
+                        first[a] = step.paper;
                     }
-                } else if (what.equals("coin")) {
-                    w.coin[a] += amount < 0 ? -parts[a] : parts[a];
-                } else if (row == 3 || mine[row][a] > 0) {
-                    long goes = w.worth[h.paper][a] * amount / 1000;
+                } else if (step.what.equals("coin")) {
+                    w.coin[a] = step.amount.signum() < 0 ? w.coin[a].subtract(parts[a]) : w.coin[a].add(parts[a]);
+                } else if (step.row == 3 || mine[step.row][a].signum() > 0) {
+                    long goes = w.worth[h.paper][a] * step.amount.longValueExact() / 1000;
                     w.worth[h.paper][a] -= goes;
-                    w.worth[paper][a] += goes;
+                    w.worth[step.paper][a] += goes;
                 }
             }
         }
@@ -834,11 +855,11 @@ public final class AgainstOracle {
         }
 
         long own(int a, int p, int day) {
-            return ask(acc(a) && pap(p), day(day), day, w -> w.own[p][a]);
+            return ask(acc(a) && pap(p), day(day), day, w -> w.own[p][a].longValueExact());
         }
 
         long total(int a, int p, int day) {
-            return ask(acc(a) && pap(p), day(day), day, w -> sum(w.own[p], a));
+            return ask(acc(a) && pap(p), day(day), day, w -> sum(w.own[p], a).longValueExact());
         }
 
         long worth(int a, int p, int day) {
@@ -846,7 +867,7 @@ public final class AgainstOracle {
         }
 
         long coin(int a, int what, int day) {
-            return ask(acc(a), in(what, 0, 1) && day(day), day, w -> what == 0 ? w.coin[a] : w.realized[a]);
+            return ask(acc(a), in(what, 0, 1) && day(day), day, w -> what == 0 ? w.coin[a].longValueExact() : w.realized[a]);
         }
 
         long chosen(int e, int a) {
@@ -868,7 +889,7 @@ public final class AgainstOracle {
             if (!h.seen(asof)) {
                 return no(7);
             }
-            return ask(true, true, h.day, w -> w.kept.get(e)[c][a]);
+            return ask(true, true, h.day, w -> w.kept.get(e)[c][a].longValueExact());
         }
 
         long bears(int c) {
@@ -903,7 +924,6 @@ public final class AgainstOracle {
         }
 
         long due(int t, int e, int p) {
-            unsure = false;
             if (!need(in(t, 0, trades.size() - 1) && ev(e) && (p == NONE || pap(p)), true, true, true)) {
                 return NONE;
             }
@@ -913,25 +933,15 @@ public final class AgainstOracle {
                 return no(7);
             }
             World w = world(deal.day);
-            if (Integer.valueOf(0).equals(w.done.get(t))) {
+            if (w.done.get(t) == 0) {
                 return no(7);
             }
-            unsure = w.lost && w.done.get(t) == null;
             if (w.over) {
                 return no(8);
             }
-            Yield y = new Yield(deal.shares, new long[4]);
+            Yield y = new Yield(big(deal.shares), none(4));
             y.all(h.script);
-            long amount = 0;
-            if (p == NONE) {
-                for (long[] c : y.coins) {
-                    amount += c[0];
-                }
-            } else {
-                for (long[] g : y.gives) {
-                    amount += g[0] == p ? g[1] : 0;
-                }
-            }
+            long amount = (p == NONE ? y.sum("coin", 0) : y.sum("give", p)).longValueExact();
             if (deal.dealt < h.ex && deal.day > h.day) {
                 return amount;
             }
@@ -1065,24 +1075,20 @@ public final class AgainstOracle {
 
         long value(int e, int c, int shares) {
             Happening h = events.get(e);
-            long[] t = new long[4];
-            t[3] = shares;
+            BigInteger[] t = none(4);
             if (c != NONE) {
-                t[c] = shares;
+                t[c] = big(shares);
             }
-            Yield y = new Yield(shares, t);
+            Yield y = new Yield(big(shares), t);
             y.all(h.script);
-            long sum = 0;
-            for (long[] g : y.gives) {
-                sum += g[1] * rates[(int) g[0]];
+            BigInteger sum = y.sum("coin", 0);
+            for (int p = 0; p < 20; p++) {
+                sum = sum.add(y.sum("give", p).multiply(big(rates[p])));
             }
-            for (long[] g : y.coins) {
-                sum += g[0];
+            for (BigInteger goes : y.takes) {
+                sum = sum.subtract(goes.multiply(big(rates[h.paper])));
             }
-            for (long g : y.takes) {
-                sum -= g * rates[h.paper];
-            }
-            return sum;
+            return sum.longValueExact();
         }
 
         long brings(int e, int c, int shares) {
@@ -1560,9 +1566,7 @@ public final class AgainstOracle {
                 case 11:
                 case 12: {
                     int q = k.odds(3) ? NONE : p;
-                    long got = x.due(t, e, q);
-                    long want = o.due(t, e, q);
-                    return o.unsure || check("due(" + t + ", " + e + ", " + q + ")", got, want);
+                    return check("due(" + t + ", " + e + ", " + q + ")", x.due(t, e, q), o.due(t, e, q));
                 }
                 case 13:
                     return check("optionOn", x.optionOn(i, d), o.optionOn(i, d));
@@ -1633,6 +1637,116 @@ public final class AgainstOracle {
         }
     }
 
+    /**
+     * Runs past too much, where a trade that fails is still told from one that is done. In calm ones another paper is too
+     * much, so that accounts have few shares; trades are for what the account has, or for one more.
+     */
+    static final class Flooding {
+        final Play p;
+        final Random r;
+        final boolean calm;
+
+        Flooding(int run) {
+            p = new Play(run);
+            r = p.r;
+            calm = run % 3 > 0;
+        }
+
+        int of(int... some) {
+            return some[r.nextInt(some.length)];
+        }
+
+        String grow() {
+            int m = calm ? 1 + r.nextInt(4) : of(1, 7, 999, 1000, 1 + r.nextInt(1000));
+            int n = calm ? 1 + r.nextInt(4) : of(1, 1, 3, 1 + r.nextInt(1000));
+            return "give " + m + " of " + of(0, 0, 0, 1) + " for " + n + ";";
+        }
+
+        String shrink() {
+            int n = calm ? 1 + r.nextInt(6) : of(1000, 1000, 2, 1 + r.nextInt(1000));
+            return "take " + (n == 1 ? 1 : n - 1 - r.nextInt(of(1, 1, n - 1))) + " for " + n + ";";
+        }
+
+        String plain(boolean takes) {
+            switch (r.nextInt(6)) {
+                case 0:
+                    return "fraction " + (r.nextBoolean() ? "up" : "near") + ";" + grow();
+                case 1:
+                case 2:
+                    return takes ? shrink() : grow();
+                case 3:
+                    return "when has " + (r.nextBoolean() ? "<" : ">") + of(9999999, 1000, 40, 1) + "{" + grow() + "}else{"
+                            + (takes ? shrink() : grow()) + "}";
+                default:
+                    return grow();
+            }
+        }
+
+        String text() {
+            StringBuilder b = new StringBuilder();
+            boolean inside = r.nextInt(3) > 0;
+            for (int i = r.nextInt(inside ? 2 : 3); i > 0; i--) {
+                b.append(plain(!inside));
+            }
+            for (int c = 0; c < 3 && inside; c++) {
+                int most = calm ? of(0, 5, 30, r.nextInt(200)) : of(0, 50, 9999999, r.nextInt(10000000));
+                b.append("choice ").append((char) ('a' + c)).append('{');
+                if (r.nextInt(4) > 0) {
+                    b.append("most ").append(most).append(r.nextBoolean() ? " rata;" : " small " + of(0, 9, 20, 5000) + ";");
+                }
+                b.append(plain(true)).append('}');
+                if (c == 1 && r.nextBoolean()) {
+                    b.append("default ").append((char) ('a' + r.nextInt(2))).append(';');
+                }
+            }
+            return b.toString();
+        }
+
+        void event(int paper, int day, String text) {
+            p.feedText(text);
+            p.check("event of " + text, p.x.event(paper, text.length(), day, day, day, 0), p.o.event(paper, text.length(), day, day, day, 0));
+        }
+
+        void issue(int account, int paper, int day, int shares) {
+            p.check("issue", p.x.issue(account, paper, day, shares, 0, 0) ? 1 : 0, p.o.issue(account, paper, day, shares, 0, 0));
+        }
+
+        void tell() {
+            for (int i = 0; i < 7; i++) {
+                int under = i == 0 || r.nextInt(4) == 0 ? NONE : r.nextInt(i);
+                p.check("account", p.x.account(under, 0, 0), p.o.account(under, 0, 0));
+                issue(i, 0, 1, calm ? 1 + r.nextInt(60) : of(1, 3, 20, 1000000, 1 + r.nextInt(1000000)));
+            }
+            event(0, 5, "give 1 of 0 for 2;");
+            issue(0, 2, 1, 1000000);
+            event(2, calm ? 6 : 16, "give 1000 of 2 for 1;");
+            for (int i = 2; i < 12; i++) {
+                event(0, 10 + i, text());
+                for (int a = 0; a < 6; a++) {
+                    int c = r.nextInt(4);
+                    p.check("choose", p.x.choose(i, a, c, 5, 0), p.o.choose(i, a, c, 5, 0));
+                }
+            }
+        }
+
+        void all() {
+            tell();
+            for (int t = 0; t < 40; t++) {
+                int a = r.nextInt(7);
+                int b = (a + 1 + r.nextInt(6)) % 7;
+                int day = 11 + t / 3;
+                int q = of(0, 0, 0, 1);
+                BigInteger has = p.o.world(day - 1).own[q][a].add(big(r.nextInt(2)));
+                int n = has.min(big(of(1000000, 1000000, 10))).max(BigInteger.ONE).intValueExact();
+                p.check("trade", p.x.trade(a, b, q, n, 1, day, 0), p.o.trade(a, b, q, n, 1, day, 0));
+                if (t % 8 == 0) {
+                    issue(a, q, day, n);
+                }
+                p.check("due of trade " + t, p.x.due(t, 0, NONE), p.o.due(t, 0, NONE));
+            }
+        }
+    }
+
     public static void main(String[] args) {
         int runs = args.length > 0 && args[0].matches("\\d+") ? Integer.parseInt(args[0]) : 1500;
         long[] seen = new long[9];
@@ -1655,7 +1769,15 @@ public final class AgainstOracle {
                 seen[i] += play.count[i];
             }
         }
-        System.out.println("statuses met: " + Arrays.toString(seen));
+        long[] floods = new long[9];
+        for (int run = 1; run <= runs / 10 && wrong < 20; run++) {
+            Flooding flooding = new Flooding(run);
+            flooding.all();
+            for (int i = 0; i < seen.length; i++) {
+                floods[i] += flooding.p.count[i];
+            }
+        }
+        System.out.println("statuses met: " + Arrays.toString(seen) + ", past too much: " + Arrays.toString(floods));
         for (int i = 0; i < seen.length; i++) {
             same(0, "a run with status " + i, Math.min(seen[i], 1), 1);
         }

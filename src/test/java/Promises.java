@@ -916,6 +916,80 @@ public final class Promises {
         x.trade(19, 1, 0, 81, 0, 15, 0);
         refused("82 of 81", x.due(0, 0, 0), 7);
         refused("81 of 81", x.due(1, 0, 0), 8);
+        x = new ShareLife();
+        x.account(NONE, 0, 0);
+        x.account(NONE, 0, 0);
+        x.issue(0, 0, 1, 1000000, 0, 0);
+        event(0, 10, "give 999 of 0 for 1;");
+        event(0, 11, "give 999 of 0 for 1;give 999 of 0 for 1;");
+        for (int day = 12; day <= 14; day++) {
+            event(0, day, "take 999 for 1000;");
+        }
+        x.trade(0, 1, 0, 2000, 0, 15, 0);
+        x.trade(0, 1, 0, 1999, 0, 15, 0);
+        refused("2,000 of 1,999, which were 1,999,000,000,000 at once", x.due(0, 0, 0), 7);
+        refused("1,999 of 1,999", x.due(1, 0, 0), 8);
+    }
+
+    /** Sixteen events by about 1,000, then as many back: not one share is lost on the way. */
+    private static void upAndDown() {
+        start(21);
+        x.account(NONE, 0, 0);
+        x.account(NONE, 0, 0);
+        x.issue(0, 0, 1, 1000000, 0, 0);
+        event(0, 10, "give 1 of 0 for 1;");
+        for (int day = 11; day <= 17; day++) {
+            event(0, day, "give 999 of 0 for 1;");
+        }
+        for (int day = 18; day <= 24; day++) {
+            event(0, day, "take 999 for 1000;");
+        }
+        event(0, 25, "take 1 for 2; take 499 for 1000;");
+        x.trade(0, 1, 0, 2001, 0, 26, 0);
+        x.trade(0, 1, 0, 1999, 0, 26, 0);
+        x.trade(0, 1, 0, 2, 0, 26, 0);
+        x.trade(0, 1, 0, 1, 0, 26, 0);
+        refused("2,001 of 2,000", x.due(0, 0, 0), 7);
+        refused("1,999 of 2,000", x.due(1, 0, 0), 8);
+        refused("2 of 1", x.due(2, 0, 0), 7);
+        refused("1 of 1", x.due(3, 0, 0), 8);
+    }
+
+    private static void cutsPastTooMuch() {
+        start(21);
+        int[] shares = {10, 5, 6};
+        for (int i = 0; i < 3; i++) {
+            x.account(NONE, 0, 0);
+            x.issue(i, 0, 1, shares[i], 0, 0);
+        }
+        x.issue(0, 1, 1, 1000000, 0, 0);
+        event(1, 2, "give 1000 of 1 for 1;");
+        event(0, 5, "choice a{most 14 small 5; take 1 for 1;} default a;");
+        event(0, 6, "coin 1 for 1;");
+        x.trade(0, 1, 0, 5, 1, 7, 0);
+        x.trade(1, 2, 0, 1, 1, 7, 0);
+        x.trade(2, 0, 0, 4, 1, 7, 0);
+        x.trade(0, 1, 0, 4, 1, 7, 0);
+        x.trade(2, 0, 0, 3, 1, 7, 0);
+        refused("5 of 4", x.due(0, 2, 0), 7);
+        refused("1 of none, as 5 stay whole", x.due(1, 2, 0), 7);
+        refused("4 of 3", x.due(2, 2, 0), 7);
+        refused("4 of 4", x.due(3, 2, 0), 8);
+        refused("3 of 3", x.due(4, 2, 0), 8);
+        start(21);
+        x.account(NONE, 0, 0);
+        x.account(NONE, 0, 0);
+        x.issue(0, 0, 1, 1 << 19, 0, 0);
+        event(0, 10, "give 511 of 0 for 1;");
+        event(0, 11, "give 511 of 0 for 1;");
+        event(0, 12, "give 7 of 0 for 1;");
+        event(0, 13, "when has > 0 {take 1 for 1;}");
+        x.trade(0, 1, 0, 1, 1, 12, 0);
+        x.trade(1, 0, 0, 1, 1, 12, 0);
+        x.trade(0, 1, 0, 1, 1, 14, 0);
+        refused("far more than 1", x.due(0, 0, 0), 8);
+        refused("what came goes back", x.due(1, 0, 0), 8);
+        refused("all of 2 to the 40th went", x.due(2, 0, 0), 7);
     }
 
     private static void option() {
@@ -1347,6 +1421,8 @@ public final class Promises {
         done();
         dues();
         duesPastTooMuch();
+        upAndDown();
+        cutsPastTooMuch();
         option();
         optionOn();
         endedOptions();

@@ -42,6 +42,21 @@ public final class Room {
         return x;
     }
 
+    /** Far past too much. */
+    private static ShareLife flooded() {
+        ShareLife x = new ShareLife();
+        for (int i = 0; i < 20; i++) {
+            x.account(i == 0 ? ShareLife.NONE : i - 1, 0, 0);
+            x.issue(i, 0, 1, 1000000, 0, 0);
+            x.trade(i, (i + 1) % 20, 0, 1, 1, 100, 0);
+        }
+        for (int i = 0; i < 16; i++) {
+            feed(x, "give 999 of 0 for 1;");
+            x.event(0, 20, 10 + i, 10 + i, 10 + i, 0);
+        }
+        return x;
+    }
+
     private interface Calls {
         void make(ShareLife x, int i);
     }
@@ -80,6 +95,11 @@ public final class Room {
         measure("events that stand", (x, i) -> {
             feed(bare, "give 1 of 0 for 1;");
             bare.event(0, 18, 5, 5, 5, 0);
+        });
+        ShareLife flooded = flooded();
+        measure("due past too much", (x, i) -> {
+            flooded.asof(40000 - i % 2);
+            flooded.due(i % 20, 0, 0);
         });
         measure("best", (x, i) -> x.best(i % 16, 100 + i));
         System.out.println(wrong == 0 ? "the room is kept" : wrong + " runs take too much room");
