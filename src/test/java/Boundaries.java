@@ -390,6 +390,7 @@ public final class Boundaries extends Checks {
         fault("choice {}", 2, 7);
         fault("choice give{}choice for{}choice else{}default else;", 0, NONE);
         fault("choice abcdefgh{}choice abcdefg{}", 0, NONE);
+        fault("choice z{}choice az{}choice za{}default za;", 0, NONE);
 
         sentence("({CLAUSE}: any number of times; the { } around it are SIGNS; [ ] perhaps.)");
         fault("when has < 1 { }", 0, NONE);
@@ -720,6 +721,17 @@ public final class Boundaries extends Checks {
         stay(2, 0, 0, 0);
         fine("coin of none", x.coin(1, 0, 5), 0);
         stay(3, 0, 3, 4);
+        x = new ShareLife();
+        x.account(NONE, 0, 0);
+        x.account(0, 0, 0);
+        x.account(1, 0, 0);
+        for (int i = 0; i < 3; i++) {
+            x.issue(i, 0, 1, 2, 0, 0);
+        }
+        event(0, 5, "choice a{most 6 rata;}default a;");
+        event(0, 5, "choice a{most 5 rata;}default a;");
+        stay(0, 0, 2, 2, 2);
+        stay(1, 0, 2, 2, 1);
 
         sentence("by rata each TOP account's T to the number times T by all T, rounded down, and those left one by one to the greatest rests (of like ones the lesser account)");
         holders(3, 3, 3);
@@ -760,6 +772,12 @@ public final class Boundaries extends Checks {
         holders(3, 4, 1);
         event(0, 5, "choice a{most 4 small 4;}default a;");
         stay(0, 0, 3, 0, 1);
+        x = new ShareLife();
+        holders(1, 1, 3, 3, 0);
+        event(0, 5, "choice a{most 4 small 1;}default a;");
+        event(0, 5, "choice a{most 3 small 1;}default a;");
+        stay(0, 0, 1, 1, 1, 1, 0);
+        stay(1, 0, 1, 1, 1, 0, 0);
     }
 
     private static void cutAway() {
@@ -894,6 +912,13 @@ public final class Boundaries extends Checks {
         event(0, 3, "choice a{when has>9{coin 20 for 1;}else{coin 1 for 1;}}");
         x.choose(2, 0, 0, 3, 0);
         fine("coin of a choice: TOTAL, not T", x.coin(0, 0, 3) - x.coin(0, 0, 2), 80);
+        for (int has = 1; has <= 4; has++) {
+            x = new ShareLife();
+            holders(has);
+            event(0, 2, "when has>1{when has>2{when has>3{}else{}coin 9 for 1;}else{coin 5 for 1;}coin 1 for 1;}else{coin 3 for 1;}");
+            long[] each = {3, 6, 10, 10};
+            fine("coin of whens in whens", x.coin(0, 0, 2), has * each[has - 1]);
+        }
         x = new ShareLife();
         tops(1);
         event(0, 5, "when has<1{when has>0{fraction up;}else{worth 1000 to 1;}}");
@@ -1080,6 +1105,16 @@ public final class Boundaries extends Checks {
         event(0, 7, "give 1 of 0 for 3;");
         number(0, 6, 18, 1);
         number(0, 7, 24, 1);
+        x = new ShareLife();
+        x.option(0, 5, 12, 12, 0);
+        event(0, 5, "give 1 of 0 for 1;");
+        event(0, 5, "when has>0{}give 1 of 0 for 1;");
+        event(0, 5, "choice a{}give 1 of 0 for 1;");
+        number(0, 5, 24, 1);
+        for (int i = 3; i < 16; i++) {
+            event(0, 6, "give 1 of 0 for 1;");
+        }
+        number(0, 6, 24 << 13, 1);
     }
 
     /** An option's NUMBER at the end of a day is due to be so. */
@@ -1479,6 +1514,12 @@ public final class Boundaries extends Checks {
         refused("brings of no EVENT", x.brings(1, NONE, 1), 1);
         event(0, 5, times("coin 9999999 for 1;", 20));
         fine("brings of the most", x.brings(1, NONE, 1000000), 199999980000000L);
+        x.rate(0, 7);
+        event(0, 5, "choice a{take 1 for 2;}choice b{take 1 for 1;take 1 for 2;}choice c{take 1 for 3;}");
+        long[] gone = {-14, -35, -7};
+        for (int choice = 0; choice < 3; choice++) {
+            fine("brings of takes", x.brings(2, choice, 5), gone[choice]);
+        }
 
         sentence("The choice that brings most, of several the first (1; 2; 5: no choices).");
         event(0, 5, "choice a{coin 1 for 2;}choice b{coin 1 for 3;}choice c{coin 2 for 3;}");
@@ -1486,11 +1527,13 @@ public final class Boundaries extends Checks {
         fine("best", x.best(0, 2), 0);
         fine("best", x.best(0, 3), 2);
         fine("best of 1,000,000", x.best(0, 1000000), 2);
+        event(0, 5, "choice a{coin 1 for 2;}choice b{coin 3 for 2;}choice c{coin 2 for 2;}");
+        fine("best in the middle", x.best(1, 2), 1);
         refused("best of 0", x.best(0, 0), 2);
         refused("best of 1,000,001", x.best(0, 1000001), 2);
         event(0, 5, "coin 1 for 1;");
-        refused("best without choices", x.best(1, 1), 5);
-        refused("best of no EVENT", x.best(2, 1), 1);
+        refused("best without choices", x.best(2, 1), 5);
+        refused("best of no EVENT", x.best(3, 1), 1);
     }
 
     private static void newHouse() {
@@ -1949,7 +1992,12 @@ public final class Boundaries extends Checks {
         calls();
         forms();
         full();
-        againstDocument(Files.readString(documentBy(args)));
+        Path document = documentBy(args);
+        if (Files.exists(document)) {
+            againstDocument(Files.readString(document));
+        } else {
+            System.out.println("no " + document + " to set the quotes against");
+        }
         System.out.println(quotes.size() + " sentences");
         end();
     }
