@@ -730,8 +730,10 @@ public final class Boundaries extends Checks {
         }
         event(0, 5, "choice a{most 6 rata;}default a;");
         event(0, 5, "choice a{most 5 rata;}default a;");
+        event(0, 5, "choice a{most 7 rata;}default a;");
         stay(0, 0, 2, 2, 2);
         stay(1, 0, 2, 2, 1);
+        stay(2, 0, 2, 2, 2);
 
         sentence("by rata each TOP account's T to the number times T by all T, rounded down, and those left one by one to the greatest rests (of like ones the lesser account)");
         holders(3, 3, 3);
@@ -1115,6 +1117,12 @@ public final class Boundaries extends Checks {
             event(0, 6, "give 1 of 0 for 1;");
         }
         number(0, 6, 24 << 13, 1);
+        x = new ShareLife();
+        x.option(0, 5, 1, 3, 0);
+        for (int i = 0; i < 16; i++) {
+            event(0, 5 + i, "give 1 of 0 for 1;");
+        }
+        number(0, 20, 3 << 16, 1);
     }
 
     /** An option's NUMBER at the end of a day is due to be so. */
@@ -1337,6 +1345,10 @@ public final class Boundaries extends Checks {
         fine("explain by six of twelve", x.explain(0, 1, 5, 0, 64, 6), 6);
         refused("explain by none", x.explain(0, 1, 5, 0, 3, 6), 5);
         fine("rivals of the latest with 0", x.rivals(), 924);
+        fine("explain by none of twelve", x.explain(0, 1, 5, 0, 1, 6), 0);
+        fine("rivals", x.rivals(), 1);
+        fine("explain by all twelve", x.explain(0, 1, 5, 0, 4096, 6), 12);
+        fine("rivals", x.rivals(), 1);
 
         sentence("The k-th HINT of its BEST, by numbers (5).");
         refused("because ahead of any", x.because(0), 5);

@@ -990,6 +990,39 @@ public final class Promises {
         refused("far more than 1", x.due(0, 0, 0), 8);
         refused("what came goes back", x.due(1, 0, 0), 8);
         refused("all of 2 to the 40th went", x.due(2, 0, 0), 7);
+        start(21);
+        x.account(NONE, 0, 0);
+        x.account(NONE, 0, 0);
+        x.issue(0, 0, 1, 1 << 19, 0, 0);
+        event(0, 10, "give 511 of 0 for 1;");
+        event(0, 11, "give 511 of 0 for 1;");
+        event(0, 12, "give 7 of 0 for 1;");
+        x.trade(0, 1, 0, 1, 1, 13, 0);
+        for (int day = 14; day <= 16; day++) {
+            event(0, day, "take 999 for 1000;");
+        }
+        x.trade(0, 1, 0, 1101, 1, 17, 0);
+        x.trade(0, 1, 0, 1100, 1, 17, 0);
+        refused("1,101 of 1,100, which were one less than 2 to the 40th", x.due(1, 0, 0), 7);
+        refused("1,100 of 1,100", x.due(2, 0, 0), 8);
+        smallPastTooMuch();
+    }
+
+    private static void smallPastTooMuch() {
+        start(21);
+        int[] shares = {10, 5, 6};
+        for (int i = 0; i < 3; i++) {
+            x.account(NONE, 0, 0);
+            x.issue(i, 0, 1, shares[i], 0, 0);
+        }
+        x.issue(0, 1, 1, 1000000, 0, 0);
+        event(1, 2, "give 1000 of 1 for 1;");
+        event(0, 5, "choice a{most 5 small 5; take 1 for 1;} default a;");
+        event(0, 6, "coin 1 for 1;");
+        x.trade(1, 0, 0, 1, 1, 7, 0);
+        x.trade(2, 1, 0, 6, 1, 7, 0);
+        refused("none is left of a small one that just fits", x.due(0, 2, 0), 7);
+        refused("the others keep theirs", x.due(1, 2, 0), 8);
     }
 
     private static void option() {
