@@ -1845,9 +1845,11 @@ public final class ShareLife {
         }
 
         static void put(long[] row, long number) {
-            Arrays.fill(row, 0);
-            row[0] = number & LIMB;
-            row[1] = number >>> LIMB_BITS;
+            long left = number;
+            for (int i = 0; i < LIMBS; i++) {
+                row[i] = left & LIMB;
+                left >>>= LIMB_BITS;
+            }
         }
 
         private static void copy(long[] from, long[] into) {

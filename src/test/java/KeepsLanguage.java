@@ -1,7 +1,10 @@
 import com.sun.source.tree.AssertTree;
+import com.sun.source.tree.BinaryTree;
 import com.sun.source.tree.CatchTree;
 import com.sun.source.tree.ClassTree;
 import com.sun.source.tree.CompilationUnitTree;
+import com.sun.source.tree.CompoundAssignmentTree;
+import com.sun.source.tree.ForLoopTree;
 import com.sun.source.tree.IdentifierTree;
 import com.sun.source.tree.LambdaExpressionTree;
 import com.sun.source.tree.LineMap;
@@ -14,9 +17,13 @@ import com.sun.source.tree.SynchronizedTree;
 import com.sun.source.tree.ThrowTree;
 import com.sun.source.tree.Tree;
 import com.sun.source.tree.TryTree;
+import com.sun.source.tree.TypeCastTree;
 import com.sun.source.tree.VariableTree;
+import com.sun.source.tree.WhileLoopTree;
 import com.sun.source.util.JavacTask;
 import com.sun.source.util.SourcePositions;
+import com.sun.source.util.TreePath;
+import com.sun.source.util.TreePathScanner;
 import com.sun.source.util.TreeScanner;
 import com.sun.source.util.Trees;
 import java.io.File;
@@ -33,6 +40,10 @@ import java.util.List;
 import java.util.Map;
 import java.util.Set;
 import java.util.TreeSet;
+import javax.lang.model.element.Element;
+import javax.lang.model.element.ElementKind;
+import javax.lang.model.element.TypeElement;
+import javax.lang.model.type.TypeMirror;
 import javax.tools.JavaCompiler;
 import javax.tools.StandardJavaFileManager;
 import javax.tools.ToolProvider;
@@ -197,7 +208,7 @@ public final class KeepsLanguage {
             return null;
         }
 
-        /** How deep calls go from a method; those of the library don't count. */
+        /** How deep calls go from a method, those of the library too. */
         int depth(String from, List<String> open) {
             due(!open.contains(from), "no recursion: " + open + " " + from);
             if (open.contains(from)) {
@@ -207,6 +218,7 @@ public final class KeepsLanguage {
             int deepest = 0;
             for (String call : calls.get(from)) {
                 String name = call.substring(call.indexOf('.') + 1);
+                deepest = Math.max(deepest, owners.containsKey(name) ? 0 : 1);
                 for (String owner : owners.getOrDefault(name, Set.of())) {
                     boolean may = call.equals(owner + "." + name)
                             || call.startsWith("?") && !owner.equals(from.substring(0, from.indexOf('.')));
@@ -220,12 +232,112 @@ public final class KeepsLanguage {
         }
     }
 
+    /** What needs types: the library that is used, joined texts, casts; and the loops' ends. */
+    private static final class Types extends TreePathScanner<Void, Void> {
+        private static final Map<String, String> LIBRARY = Map.of(
+                "java.lang.String", "length charAt isEmpty equals indexOf substring toCharArray",
+                "java.lang.StringBuilder", "append charAt setCharAt setLength deleteCharAt reverse length toString",
+                "java.util.ArrayList", "add get set remove size isEmpty clear",
+                "java.util.List", "add get set remove size isEmpty clear of",
+                "java.lang.Integer", "compare max min bitCount",
+                "java.lang.Long", "compare max min bitCount",
+                "java.lang.Math", "max min abs floorDiv floorMod",
+                "java.lang.System", "arraycopy",
+                "java.util.Arrays", "copyOf copyOfRange fill");
+        private static final Set<String> MADE = Set.of("java.lang.String", "java.lang.StringBuilder",
+                "java.util.ArrayList");
+        final Trees trees;
+
+        Types(Trees trees) {
+            this.trees = trees;
+        }
+
+        String place(Tree tree) {
+            CompilationUnitTree unit = getCurrentPath().getCompilationUnit();
+            long line = unit.getLineMap().getLineNumber(trees.getSourcePositions().getStartPosition(unit, tree));
+            return " (line " + line + ")";
+        }
+
+        TypeMirror typeOf(Tree tree) {
+            return trees.getTypeMirror(new TreePath(getCurrentPath(), tree));
+        }
+
+        static String ownerOf(Element called) {
+            return ((TypeElement) called.getEnclosingElement()).getQualifiedName().toString();
+        }
+
+        @Override
+        public Void visitMethodInvocation(MethodInvocationTree tree, Void none) {
+            Element called = trees.getElement(getCurrentPath());
+            String owner = ownerOf(called);
+            String name = called.getSimpleName().toString();
+            boolean above = called.getKind() == ElementKind.CONSTRUCTOR;
+            boolean listed = List.of(LIBRARY.getOrDefault(owner, "").split(" ")).contains(name);
+            due(above || owner.startsWith("ShareLife") || listed, "the library has no " + owner + "." + name + place(tree));
+            return super.visitMethodInvocation(tree, none);
+        }
+
+        @Override
+        public Void visitNewClass(NewClassTree tree, Void none) {
+            String made = ownerOf(trees.getElement(getCurrentPath()));
+            due(made.startsWith("ShareLife") || MADE.contains(made), "the library has no new " + made + place(tree));
+            return super.visitNewClass(tree, none);
+        }
+
+        @Override
+        public Void visitBinary(BinaryTree tree, Void none) {
+            boolean texts = (typeOf(tree.getLeftOperand()) + " " + typeOf(tree.getRightOperand())).contains("java.lang.");
+            due(!texts, "no sign between texts or boxes" + place(tree));
+            return super.visitBinary(tree, none);
+        }
+
+        @Override
+        public Void visitCompoundAssignment(CompoundAssignmentTree tree, Void none) {
+            due(typeOf(tree.getVariable()).getKind().isPrimitive(), "no joining of texts" + place(tree));
+            return super.visitCompoundAssignment(tree, none);
+        }
+
+        @Override
+        public Void visitTypeCast(TypeCastTree tree, Void none) {
+            due(typeOf(tree.getType()).getKind().isPrimitive(), "casts are of numbers alone" + place(tree));
+            return super.visitTypeCast(tree, none);
+        }
+
+        @Override
+        public Void visitForLoop(ForLoopTree tree, Void none) {
+            due(tree.getCondition() != null, "a loop's end can be seen" + place(tree));
+            return super.visitForLoop(tree, none);
+        }
+
+        @Override
+        public Void visitWhileLoop(WhileLoopTree tree, Void none) {
+            due(!tree.getCondition().toString().equals("(true)"), "a loop's end can be seen" + place(tree));
+            return super.visitWhileLoop(tree, none);
+        }
+
+        @Override
+        public Void visitVariable(VariableTree tree, Void none) {
+            Element it = trees.getElement(getCurrentPath());
+            if (it.getModifiers().contains(javax.lang.model.element.Modifier.STATIC)) {
+                Set<String> may = Set.of("int", "long", "boolean", "char", "java.lang.String", "int[]", "long[]", "char[]",
+                        "byte[]");
+                due(may.contains(it.asType().toString()) && tree.getInitializer() != null
+                        && it.getModifiers().contains(javax.lang.model.element.Modifier.FINAL),
+                        "static " + tree.getName() + " is a constant" + place(tree));
+            }
+            String type = it.asType().toString();
+            due(!type.endsWith("[][]") || !type.contains("."), "two dimensions are of numbers alone" + place(tree));
+            return super.visitVariable(tree, none);
+        }
+    }
+
     private static void source(String path) throws Exception {
         JavaCompiler javac = ToolProvider.getSystemJavaCompiler();
         StandardJavaFileManager files = javac.getStandardFileManager(null, null, null);
         JavacTask task = (JavacTask) javac.getTask(null, files, null, List.of("-proc:none"), null,
                 files.getJavaFileObjects(new File(path)));
-        for (CompilationUnitTree unit : task.parse()) {
+        Iterable<? extends CompilationUnitTree> units = task.parse();
+        for (CompilationUnitTree unit : units) {
             due(unit.getPackageName() == null, "no package");
             due(unit.getTypeDecls().size() == 1, "one class at the top");
             for (Tree used : unit.getImports()) {
@@ -238,6 +350,10 @@ public final class KeepsLanguage {
                 int deep = scan.depth("ShareLife." + name, new ArrayList<>());
                 due(deep <= 8, name + " goes at most eight deep, not " + deep);
             }
+        }
+        task.analyze();
+        for (CompilationUnitTree unit : units) {
+            new Types(Trees.instance(task)).scan(unit, null);
         }
     }
 
